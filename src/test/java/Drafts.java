@@ -3,6 +3,7 @@ import java.util.Random;
 /** Draws drafts that can be taken apart without a fault. */
 final class Drafts {
     private final Random random;
+    private int guards;
 
     Drafts(long seed) {
         random = new Random(seed);
@@ -15,6 +16,7 @@ final class Drafts {
     /** A draft of so many functions at most, each of so many operations at most. */
     String draw(int mostFunctions, int mostOps) {
         int functions = 1 + below(mostFunctions);
+        guards = 0;
         StringBuilder text = new StringBuilder();
         for (int function = 0; function < functions; function++) {
             drawFunction(text, function, functions, 1 + below(mostOps));
@@ -43,7 +45,8 @@ final class Drafts {
         int from = below(9);
         int to = below(10);
         int end = to == 9 ? ops : places[to];
-        if (places[from] < end) {
+        if (places[from] < end && guards < 8) {
+            guards++;
             text.append(" G").append(from).append(',').append(to).append(',').append(below(9));
         }
     }
