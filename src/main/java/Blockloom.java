@@ -1201,6 +1201,8 @@ public final class Blockloom {
         private final int[] opStart = new int[BYTES];
         private final int[] opCount = new int[BYTES];
         private final int[] opAddress = new int[BYTES];
+        /** By operations: the function that a 'c' calls, as it was read, -1 for others. */
+        private final int[] opCallee = new int[BYTES];
         /** By addresses: the block that begins there, and that whose last operation is there. */
         private final int[] blockAt = new int[BYTES];
         private final int[] endingAt = new int[BYTES];
@@ -1219,6 +1221,7 @@ public final class Blockloom {
             numberBlocks(checker);
             int ops = 0;
             for (int block = 0; block < total; block++) ops = readOps(block, ops, checker);
+            for (int op = 0; op < ops; op++) opCallee[op] = readCallee(opAddress[op]);
             int slots = 0;
             for (int block = 0; block < total; block++) slots = readEnd(block, slots);
             readGuards();
@@ -1376,14 +1379,18 @@ public final class Blockloom {
             return same[function] == function && first[function] >= 0;
         }
 
-        private int opAddressOf(int block, int index) {
-            return opAddress[opStart[block] + index];
+        private int opEnd(int block) {
+            return opStart[block] + opCount[block];
         }
 
-        /** Returns the function that the operation 'c' at an address calls, not a folded one. */
-        private int calleeAt(int at) {
-            int block = blockAtAddress(image.targetAt(at));
-            return block < 0 ? 0 : same[owner[block]];
+        private int readCallee(int at) {
+            int block = image.signAt(at) == 'c' ? blockAtAddress(image.targetAt(at)) : -1;
+            return block < 0 ? -1 : owner[block];
+        }
+
+        /** Returns the function that an operation 'c' calls, not a folded one, -1 for other operations. */
+        private int calleeOf(int op) {
+            return opCallee[op] < 0 ? -1 : same[opCallee[op]];
         }
 
         private int lastSlot(int block) {
@@ -1444,8 +1451,8 @@ public final class Blockloom {
         }
 
         private void comeIn(int address) {
-            if (period == 0) return;
-            int block = parts.blockAtAddress(address);
+            if (period == 0 || isOutside(address, parts.image.bytes)) return;
+            int block = parts.blockAt[address];
             if (block >= 0 && parts.wayIn[block]) happen(block, -1);
         }
 
@@ -1458,10 +1465,12 @@ public final class Blockloom {
         }
 
         private void happen(int block, int slot) {
-            if (slot < parts.slotCount[block] && events % period == 0) {
-                setCount(block, slot, Math.min(MOST_COUNTED, countOf(block, slot) + period));
-            }
+            int number = events;
             events++;
+            if (period == 0 || number % period != 0 || slot >= parts.slotCount[block]) return;
+            int at = parts.slotStart[block] + slot;
+            if (slot < 0) wayCounts[block] = Math.min(MOST_COUNTED, wayCounts[block] + period);
+            else counts[at] = Math.min(MOST_COUNTED, counts[at] + period);
         }
 
         private void fillWeights() {
@@ -1986,7 +1995,7 @@ public final class Blockloom {
                 weight = Math.max(weight, profile.weights[block]);
                 block = next[block];
             }
-            if (isFirst) weight = Integer.MAX_VALUE;
+            if (isFirst) weight = ENDLESS;
             int at = headCount;
             for (int step = 0; step < headCount && isHeadBefore(weight, head, at - 1); step++) {
                 heads[at] = heads[at - 1];
@@ -2155,11 +2164,8 @@ public final class Blockloom {
         }
 
         private void addCalls(int block, int function) {
-            for (int index = 0; index < parts.opCount[block]; index++) {
-                int at = parts.opAddressOf(block, index);
-                if (parts.image.signAt(at) == 'c' && parts.calleeAt(at) == function) {
-                    calls[parts.owner[block]] += profile.weights[block];
-                }
+            for (int op = parts.opStart[block]; op < parts.opEnd(block); op++) {
+                if (parts.calleeOf(op) == function) calls[parts.owner[block]] += profile.weights[block];
             }
         }
 
@@ -2283,8 +2289,8 @@ public final class Blockloom {
 
         private boolean mayThrow(int block) {
             if (parts.ending[block] == 't') return true;
-            for (int index = 0; index < parts.opCount[block]; index++) {
-                char sign = parts.image.signAt(parts.opAddressOf(block, index));
+            for (int op = parts.opStart[block]; op < parts.opEnd(block); op++) {
+                char sign = parts.image.signAt(parts.opAddress[op]);
                 if (sign == 'c' || sign == 'f') return true;
             }
             return false;
@@ -2353,21 +2359,25 @@ public final class Blockloom {
         }
 
         private boolean opsAreLike(int block, int other) {
-            for (int index = 0; index < parts.opCount[block]; index++) {
-                if (!opsAlike(parts.opAddressOf(block, index), parts.opAddressOf(other, index))) return false;
+            int apart = parts.opStart[other] - parts.opStart[block];
+            for (int op = parts.opStart[block]; op < parts.opEnd(block); op++) {
+                if (!areLikeOps(op, op + apart)) return false;
             }
             return true;
         }
 
-        private boolean opsAlike(int at, int other) {
+        private boolean areLikeOps(int op, int other) {
             Image image = parts.image;
-            if (image.code[at] != image.code[other]) return false;
-            if (image.signAt(at) == 'c') return kindOfCallee(at) == kindOfCallee(other);
-            return image.lengthAt(at) < 2 || image.code[at + 1] == image.code[other + 1];
+            int at = parts.opAddress[op];
+            int otherAt = parts.opAddress[other];
+            if (image.code[at] != image.code[otherAt]) return false;
+            if (parts.opCallee[op] >= 0) return kindOfCallee(op) == kindOfCallee(other);
+            return image.lengthAt(at) < 2 || image.code[at + 1] == image.code[otherAt + 1];
         }
 
-        private int kindOfCallee(int at) {
-            return kindOf(parts.first[parts.calleeAt(at)]);
+        private int kindOfCallee(int op) {
+            int callee = parts.calleeOf(op);
+            return callee < 0 ? -1 : kindOf(parts.first[callee]);
         }
 
         private boolean isFolded(int function) {
@@ -2476,8 +2486,8 @@ public final class Blockloom {
 
         private int bodyOf(int block) {
             int size = hasEndOp(block) ? parts.image.lengthAt(parts.lastAt[block]) : 0;
-            for (int index = 0; index < parts.opCount[block]; index++) {
-                size += parts.image.lengthAt(parts.opAddressOf(block, index));
+            for (int op = parts.opStart[block]; op < parts.opEnd(block); op++) {
+                size += parts.image.lengthAt(parts.opAddress[op]);
             }
             return size;
         }
@@ -2594,11 +2604,10 @@ public final class Blockloom {
         }
 
         private void writeBlock(Image image, int block) {
-            Image old = parts.image;
-            for (int index = 0; index < parts.opCount[block]; index++) {
-                int at = parts.opAddressOf(block, index);
-                if (old.signAt(at) == 'c') image.putLongWay(old.code[at], addressOfFunction(parts.calleeAt(at)));
-                else copyOp(image, at);
+            for (int op = parts.opStart[block]; op < parts.opEnd(block); op++) {
+                int callee = parts.calleeOf(op);
+                if (callee >= 0) image.putLongWay(Image.headOf('c', 0), addressOfFunction(callee));
+                else copyOp(image, parts.opAddress[op]);
             }
             if (hasEndOp(block)) copyOp(image, parts.lastAt[block]);
             if (jumpSign[block] != '-') {
