@@ -94,12 +94,12 @@ final class ApartTest {
     private static void faultsByGuard() {
         dueFault("F L0 p1 L1 h G1,0,0", 'g', 1);
         dueFault("F L0 p1 L1 h G0,0,0", 'g', 0);
-        dueFault("F L0 p1 h L1 F h G0,0,0".replace(" G0,0,0", "") + " L0 G0,0,0", 'g', 3);
+        dueFault("F p1 h F h L0 G0,0,0", 'g', 3);
         dueFault("F L0 p1 h L1 G0,1,1", 'g', 0);
         dueFault("F L0 p1 h L1 G0,1,1 F h", 'g', 0);
         dueFault("F L0 p1 h L1 G1,1,0", 'g', 2);
         duePoked("F p1 L0 p1 h L1 G0,1,0", 0, 9, 'g', 1);
-        duePoked("F p1 L0 p1 h L1 h G1,1,1".replace("G1,1,1", "G1,0,1"), 0, 0, 'g', 3);
+        duePoked("F p1 L0 p1 h L1 h G1,0,1", 0, 0, 'g', 3);
         duePoked("F L0 p1 p1 L1 p1 h G0,1,0", 1, 9, 'g', 0);
         duePoked("F L0 p1 p1 L1 p1 h L2 G0,2,1", 1, 9, 'g', 0);
         dueFault("F L0 p1 L1 h L2 G0,2,0 G0,1,1 G0,1,2 G1,0,0", 'g', 0);
@@ -127,7 +127,7 @@ final class ApartTest {
         Dues.due("register of g", -1, loom.block(0, 'r'));
         Dues.due("function", 1, loom.block(4, 'f'));
         Dues.due("function 0", 0, loom.block(3, 'f'));
-        Dues.due("begin", 9, loom.block(4, 'b') - 1);
+        Dues.due("begin", 10, loom.block(4, 'b'));
         Dues.due("slots", 2, loom.block(1, 's'));
         Dues.due("guard", -1, loom.block(1, 'g'));
         Dues.due("operations", 1, loom.block(3, 'o'));

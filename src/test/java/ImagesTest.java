@@ -108,7 +108,7 @@ final class ImagesTest {
     private static void adopting() {
         Blockloom loom = Looms.apart("F d1 z1,0 L0 p1 n h");
         Dues.refused("adopt none", NONE, loom::adopt);
-        Dues.due("apart stays", 3, loom.blocks() + 1);
+        Dues.due("apart stays", 2, loom.blocks());
         loom.make(1, false);
         String made = Looms.bytes(loom, 1);
         Dues.due("adopt", 3, loom.adopt());
