@@ -65,6 +65,8 @@ final class AlteringTest {
             "0@0 c>h -1 ^1; 1@4 >t -1 ^2; 2@5 >t -1 ^3; 3@6 >h -1");
         dueDropped("F h L0 t1 L1 p1 h G0,1,1", 2, "0@0 >h -1");
         dueDropped("F L0 p1 h L1 t0 L2 h G0,1,1 G1,2,2", 2, "0@0 p>h -1");
+        dueDropped("F L0 p1 L1 c0 h L2 h G0,1,2", 1, "0@0 p> 1; 1@1 c>h -1");
+        dueDropped("F j0 L1 h L0 c0 L2 r L3 j3 G0,2,1", 1, "0@0 > 2; 1@3 >h -1; 2@4 c> 3 ^1; 3@7 >r -1");
     }
 
     private static void dueFolded(String text, int folded, String same) {
@@ -96,6 +98,7 @@ final class AlteringTest {
         dueFolded("F h F L0 y1,1 p2 j0 L1 r F L0 y1,1 p2 j2 L2 y1,1 p2 j0 L1 r", 1, "011");
         dueFolded("F c0 h F c1 h F c0 h", 2, "000");
         dueFolded("F h F r F r F f1 r F f1 r", 2, "01133");
+        dueFolded("F h F s1,5 r F s1,5 r", 1, "011");
     }
 
     private static void foldingApart() {
@@ -116,6 +119,13 @@ final class AlteringTest {
         Dues.due("threaded", 0, loom.thread());
         loom = Looms.apart("F c1 c2 h F p1 r p2 r F p1 r p3 r");
         Dues.due("what can not be come to tells not apart", 1, loom.fold());
+        loom = Looms.apart("F L0 p1 r L1 t1 G0,1,1 F p1 r F p1 r");
+        Dues.due("2 is 1", 1, loom.fold());
+        loom.drop();
+        Dues.due("1 is 0", 1, loom.fold());
+        Dues.due("and so is 2", 0, loom.same(2));
+        loom.make(1, false);
+        Dues.due("all of them begin there", 0, loom.begins(1, 2) + loom.begins(1, 1));
         loom = Looms.apart("F c1 c2 h F L0 p1 r L1 G0,1,2 L2 t1 F p1 r");
         Dues.due("a guard tells apart", 0, loom.fold());
         loom.drop();

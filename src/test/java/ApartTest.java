@@ -18,6 +18,7 @@ final class ApartTest {
         takenAway();
         goesAnew();
         withoutPiece();
+        sameByBegin();
         Dues.close("ApartTest");
     }
 
@@ -85,6 +86,7 @@ final class ApartTest {
         dueFault("F w0,0 h", 'w', 0);
         duePoked("F L0 w0,0 h T0,0", 1, 4, 'w', 0);
         duePoked("F L0 w0,0 h T0,0", 1, 1, 'w', 0);
+        duePoked("F L0 h w0,0 T0,0", 2, 4, 'w', 1);
         dueFault("F w0,0 h L0 h T0,0 F p1 w0,0 h", 'w', 5);
         dueFault("F p1 w0,0 h F L0 r T0,0", 'w', 1);
         dueFault("F w0,0 h L0 T0,0", 'w', 0);
@@ -183,6 +185,7 @@ final class ApartTest {
         Dues.due("apart anew", 2, loom.apart());
         Dues.due("all are there", true, loom.isThere(1));
         Dues.due("nothing is counted", "0/0; 0", Looms.counts(loom, false));
+        Dues.due("nothing flows", "0/0; 0", Looms.counts(loom, true));
         Dues.due("the new one stays", 2, loom.size(1));
         Dues.due("fault", '-', loom.fault());
     }
@@ -200,5 +203,24 @@ final class ApartTest {
         Dues.refused("no order", BOUNDS, () -> loom.order(2));
         Dues.due("placed", "0 1 3", Looms.placed(loom));
         Dues.due("nothing to fold", 0, loom.fold());
+    }
+
+    private static void sameByBegin() {
+        Blockloom loom = Looms.apart("F c1 c2 c3 h F p1 r F p2 r F p1 r");
+        loom.fold();
+        loom.make(1, false);
+        loom.apart();
+        Dues.due("not the same, apart anew", 3, loom.same(3));
+        loom.adopt();
+        loom.apart();
+        Dues.due("the same as 1", 1, loom.same(3));
+        loom = Looms.apart("F p1 r F p1 r F p1 r");
+        loom.fold();
+        loom.make(1, false);
+        loom.apart();
+        loom.adopt();
+        loom.apart();
+        Dues.due("the same as 0", 0, loom.same(2) + loom.same(1));
+        Dues.due("blocks of one", "0@0 p>r -1", Looms.blocks(loom));
     }
 }

@@ -24,6 +24,21 @@ final class Drafts {
         return text.toString();
     }
 
+    /** A function of many blocks that go to others, or on. */
+    String drawDense(int ops) {
+        StringBuilder text = new StringBuilder("F");
+        int label = 0;
+        for (int place = 0; place < ops; place++) {
+            if (label < 10 && place * 10 / ops >= label) text.append(" L").append(label++);
+            int what = below(8);
+            if (what == 0) text.append(" p1");
+            else if (what == 1) text.append(" j").append(below(10));
+            else if (what == 2) text.append(" w1,0");
+            else text.append(what < 5 ? " z1," : " y1,").append(below(10));
+        }
+        return text.append(" j").append(below(10)).append(" T0,").append(below(10)).toString();
+    }
+
     private void drawFunction(StringBuilder text, int function, int functions, int ops) {
         int[] places = new int[9];
         for (int label = 0; label < 9; label++) places[label] = below(ops);

@@ -197,23 +197,31 @@ final class OrdersTest {
     private static void largeOrdersAsTold() {
         Drafts drafts = new Drafts(11L);
         int tried = 0;
-        for (int round = 0; round < 400; round++) {
-            String draft = drafts.draw(2, 38);
+        for (int round = 0; round < 4000; round++) {
+            String draft = round % 4 == 0 ? drafts.draw(2, 38) : drafts.drawDense(12 + drafts.below(27));
             Blockloom loom = Looms.apart(draft);
             if (drafts.below(2) == 0) loom.thread();
-            count(loom, drafts, 1 + drafts.below(12));
+            count(loom, drafts, 1 + drafts.below(4 + round % 40));
             for (int function = 0; Dues.of(gainCall(loom, function)) instanceof Integer; function++) {
                 loom.letFlow(function);
                 List<Integer> row = asRead(loom, function);
                 if (row.size() <= 8) continue;
                 tried++;
+                int gain = loom.order(function);
+                String order = Looms.order(loom, function);
                 List<Integer> want = largeOrder(loom, row);
-                Dues.due("gain of " + draft, gainOf(loom, want), loom.order(function));
-                Dues.due("row of " + draft, text(want), Looms.order(loom, function));
+                Dues.due("gain of " + draft, gainOf(loom, want), gain);
+                Dues.due("row of " + draft, text(want), order);
+                count(loom, drafts, 1 + drafts.below(12));
+                loom.letFlow(function);
+                loom.order(function);
+                Dues.due("row anew of " + draft, text(largeOrder(loom, row)), Looms.order(loom, function));
             }
         }
-        Dues.due("enough were tried", true, tried > 150);
+        Dues.due("enough were tried", true, tried > 1500 && moves > 200);
     }
+
+    private static int moves;
 
     private static List<Integer> largeOrder(Blockloom loom, List<Integer> read) {
         int first = read.get(0);
@@ -248,6 +256,7 @@ final class OrdersTest {
         for (List<Integer> row : rows) order.addAll(row);
         List<Integer> better = moved(loom, order);
         while (better != null) {
+            moves++;
             order = better;
             better = moved(loom, order);
         }

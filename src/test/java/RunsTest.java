@@ -23,6 +23,7 @@ final class RunsTest {
         Blockloom loom = Looms.linked(text);
         for (int number : fed) loom.feed(number);
         Dues.due("run of " + text, want, Looms.ran(loom, 0));
+        Dues.due("run again of " + text, want, Looms.ran(loom, 0));
     }
 
     private static void feeding() {
@@ -62,6 +63,7 @@ final class RunsTest {
         due("F s1,255 m1,1 p1 m1,1 p1 h", "65025 -66716671 | h 6 0 0 2 0");
         due("F d1 d2 a1,2 p1 b1,2 b1,2 p1 h", "-2147483648 2147483646 | h 8 0 0 2 0", 2147483647, 1);
         due("F s1,9 n p2 n h", "0 | h 3 0 0 1 0");
+        due("F p1 s1,5 p1 h", "0 5 | h 4 0 0 1 0");
         due("F s1,4 b1,1 p1 r", "0 | r 4 0 0 1 0");
     }
 
@@ -114,12 +116,20 @@ final class RunsTest {
         due("F n", " | i 0 0 0 1 0");
         due("F L0 p1 j0", new String(new char[999]).replace("\0", "0 ") + "0 | s 1000 1000 1000 1 0");
         sAheadOfOthers();
-        Blockloom loom = Looms.linked("F p1 h");
-        for (int value : new int[] {1, 7, 83 + 1, 87, 89, 95, 128, 255, 8, 16, 48, 64, 80, 81, 88}) {
+        Blockloom loom = Looms.linked("F p1 h p2 h");
+        for (int value : new int[] {1, 7, 84, 87, 89, 95, 128, 255}) {
             loom.poke(1, value);
             Dues.due("no operation " + value, "0 | i 1 0 0 1 0", Looms.ran(loom, 0));
         }
-        Dues.due("operand of a above 7", "| i 0 0 0 0 0", pokedRun("F a1,7 h", 1, 8).trim());
+        for (int value : new int[] {8, 16, 24, 32, 48, 56, 80, 96}) {
+            Dues.due("cut off " + value, "| i 0 0 0 0 0", pokedRun("F h", 0, value).trim());
+        }
+        for (int value : new int[] {64, 72, 81, 88}) {
+            Dues.due("cut off behind one byte " + value, "| i 0 0 0 0 0", pokedRun("F h h", 0, value).trim());
+        }
+        for (String sign : "a b m".split(" ")) {
+            Dues.due("operand above 7 of " + sign, "| i 0 0 0 0 0", pokedRun("F " + sign + "1,7 h", 1, 8).trim());
+        }
         Dues.due("jump far away", "| i 0 1 1 1 0", pokedRun("F L0 j0", 1, 127).trim());
         Dues.due("jump below 0", "| i 0 1 1 1 0", pokedRun("F L0 j0", 1, 128).trim());
         Dues.due("call far away", "| i 1 0 0 1 1", pokedRun("F c0", 1, 1).trim());
