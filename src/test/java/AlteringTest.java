@@ -10,6 +10,8 @@ final class AlteringTest {
         foldingAlike();
         foldingApart();
         foldingMore();
+        foldsAsTold();
+        dropsAsTold();
         forgetting();
         exceptions();
         Dues.close("AlteringTest");
@@ -135,6 +137,120 @@ final class AlteringTest {
         loom.make(1, false);
         Dues.due("new bytes", "88 0 4 88 0 1 83 41 82", Looms.bytes(loom, 1));
         Dues.due("begin of a folded one", 7, loom.begins(1, 2));
+    }
+
+    /** Short functions, some of them drawn from few operations, so that many are alike. */
+    private static void foldsAsTold() {
+        Drafts drafts = new Drafts(41L);
+        String[] ops = {"p1", "c1", "c2", "c3", "n", "c4", "y1,0", "z1,0", "f1", "t1"};
+        int folded = 0;
+        for (int round = 0; round < 2000; round++) {
+            StringBuilder text = new StringBuilder("F c1 h");
+            for (int function = 1; function < 7; function++) {
+                text.append(" F");
+                int many = drafts.below(4);
+                int label = drafts.below(many + 1);
+                for (int place = 0; place < many; place++) {
+                    text.append(place == label ? " L0 " : " ").append(ops[drafts.below(ops.length)]);
+                }
+                text.append(label == many ? " L0 r L1" : " r L1");
+                if (drafts.below(6) == 0) text.append(" G0,1,0");
+            }
+            Blockloom loom = Looms.apart(text.toString());
+            for (int step = drafts.below(3); step > 0; step--) {
+                if (drafts.below(2) == 0) loom.drop();
+                else loom.thread();
+            }
+            int[] want = same(loom, 7);
+            int many = 0;
+            for (int function = 0; function < 7; function++) if (want[function] != function) many++;
+            folded += many;
+            Dues.due("folded of " + text, many, loom.fold());
+            for (int each = 0; each < 7; each++) Dues.due("same of " + each + " of " + text, want[each], loom.same(each));
+        }
+        Dues.due("enough were folded", true, folded > 1000);
+    }
+
+    private static int[] same(Blockloom loom, int functions) {
+        int[] same = new int[functions];
+        for (int function = 0; function < functions; function++) {
+            same[function] = function;
+            for (int other = function - 1; other >= 0; other--) {
+                java.util.Set<String> pairs = new java.util.TreeSet<>();
+                if (arePairs(loom, first(loom, function), first(loom, other), pairs)) same[function] = other;
+            }
+        }
+        return same;
+    }
+
+    private static int first(Blockloom loom, int function) {
+        for (int block = 0; block < loom.blocks(); block++) {
+            if (loom.isThere(block) && loom.block(block, 'b') == loom.begins(0, function)) return block;
+        }
+        throw new AssertionError();
+    }
+
+    private static boolean arePairs(Blockloom loom, int one, int two, java.util.Set<String> pairs) {
+        if (one < 0 || two < 0) return one == two;
+        if (!pairs.add(one + " " + two)) return true;
+        if (loom.endOf(one) != loom.endOf(two) || loom.block(one, 's') != loom.block(two, 's')) return false;
+        if (loom.block(one, 'r') != loom.block(two, 'r') || loom.block(one, 'o') != loom.block(two, 'o')) return false;
+        int at = loom.block(one, 'b');
+        int other = loom.block(two, 'b');
+        for (int index = 0; index < loom.block(one, 'o'); index++) {
+            if (loom.opAt(one, index) != loom.opAt(two, index)) return false;
+            while (loom.byteAt(0, at) == 0) at++;
+            while (loom.byteAt(0, other) == 0) other++;
+            if (loom.opAt(one, index) == 'c') {
+                int callee = first(loom, calleeAt(loom, at));
+                if (!arePairs(loom, callee, first(loom, calleeAt(loom, other)), pairs)) return false;
+                at += 2;
+                other += 2;
+            }
+            at++;
+            other++;
+        }
+        for (int slot = 0; slot < loom.block(one, 's'); slot++) {
+            if (!arePairs(loom, loom.successor(one, slot), loom.successor(two, slot), pairs)) return false;
+        }
+        return arePairs(loom, loom.block(one, 'g'), loom.block(two, 'g'), pairs);
+    }
+
+    private static int calleeAt(Blockloom loom, int at) {
+        int to = at + 3 + (short) (loom.byteAt(0, at + 1) << 8 | loom.byteAt(0, at + 2));
+        for (int function = 0; function < 8; function++) if (loom.begins(0, function) == to) return function;
+        throw new AssertionError();
+    }
+
+    private static void dropsAsTold() {
+        Drafts drafts = new Drafts(43L);
+        for (int round = 0; round < 1000; round++) {
+            String text = drafts.draw(3, 20);
+            Blockloom loom = Looms.apart(text);
+            if (drafts.below(3) == 0) loom.thread();
+            java.util.Set<Integer> come = new java.util.TreeSet<>();
+            for (int each = 0; Dues.of(begin(loom, each)) instanceof Integer; each++) {
+                comeTo(loom, first(loom, each), come);
+            }
+            Dues.due("dropped of " + text, loom.blocks() - come.size(), loom.drop());
+            for (int block = 0; block < loom.blocks(); block++) {
+                Dues.due("there " + block + " of " + text, come.contains(block), loom.isThere(block));
+            }
+        }
+    }
+
+    private static Dues.Call begin(Blockloom loom, int function) {
+        return () -> loom.begins(0, function);
+    }
+
+    private static void comeTo(Blockloom loom, int block, java.util.Set<Integer> come) {
+        if (block < 0 || !come.add(block)) return;
+        boolean mayThrow = loom.endOf(block) == 't';
+        for (int index = 0; index < loom.block(block, 'o'); index++) {
+            if (loom.opAt(block, index) == 'c' || loom.opAt(block, index) == 'f') mayThrow = true;
+        }
+        for (int slot = 0; slot < loom.block(block, 's'); slot++) comeTo(loom, loom.successor(block, slot), come);
+        if (mayThrow) comeTo(loom, loom.block(block, 'g'), come);
     }
 
     private static void forgetting() {

@@ -92,7 +92,7 @@ final class Looms {
     }
 
     static boolean hasWayIn(Blockloom loom, int block) {
-        return !Dues.of(() -> loom.counted(block, -1)).equals("throws NoSuchElementException");
+        return Dues.of(() -> loom.counted(block, -1)) instanceof Integer;
     }
 
     /** By blocks that are there: the way in ahead of '/', if there is one, and the slots. */

@@ -1,3 +1,4 @@
+import java.math.BigInteger;
 import java.util.NoSuchElementException;
 
 /** Promises 33 to 38: profiles. */
@@ -19,6 +20,7 @@ final class ProfilesTest {
         weighing();
         exceptions();
         flowsAsByTrying();
+        flowsWithoutBetter();
         Dues.close("ProfilesTest");
     }
 
@@ -110,7 +112,7 @@ final class ProfilesTest {
     private static void setCounts(Blockloom loom, int[] counts) {
         int index = 0;
         for (int block = 0; block < loom.blocks(); block++) {
-            for (int slot = 0; slot < loom.block(block, 's'); slot++) {
+            for (int slot = 0; loom.isThere(block) && slot < loom.block(block, 's'); slot++) {
                 if (index < counts.length) loom.count(block, slot, counts[index++]);
             }
         }
@@ -216,6 +218,25 @@ final class ProfilesTest {
         Dues.due("enough were tried", true, tried > 300);
     }
 
+    /** Large functions with large counts: no change of the flows along a ring makes them better. */
+    private static void flowsWithoutBetter() {
+        Drafts drafts = new Drafts(31L);
+        for (int round = 0; round < 400; round++) {
+            String text = round % 2 == 0 ? drafts.draw(1, 40) : drafts.drawDense(10 + drafts.below(28));
+            Blockloom loom = Looms.apart(text);
+            if (round % 3 == 0) loom.drop();
+            FlowTrial trial = new FlowTrial(loom);
+            int bound = round % 5 == 0 ? 3 : round % 5 == 1 ? 30 : 10000;
+            int[] counts = new int[trial.edges()];
+            for (int index = 0; index < counts.length; index++) counts[index] = drafts.below(bound);
+            setCounts(loom, counts);
+            int changed = loom.letFlow(0);
+            Dues.due("sound flow of " + text, true, loom.isSound());
+            Dues.due("best flow of " + text, true, trial.hasNoBetter());
+            Dues.due("sum of " + text, trial.changed(), changed);
+        }
+    }
+
     /** Tries all flows of the function 0 of an object with one function. */
     private static final class FlowTrial {
         private final Blockloom loom;
@@ -232,12 +253,63 @@ final class ProfilesTest {
             this.loom = loom;
             nodes = loom.blocks();
             for (int block = 0; block < nodes; block++) {
-                for (int slot = 0; slot < loom.block(block, 's'); slot++) {
+                for (int slot = 0; loom.isThere(block) && slot < loom.block(block, 's'); slot++) {
                     int goal = loom.successor(block, slot);
                     add(block, goal < 0 ? nodes : goal);
                 }
             }
             for (int block = 0; block < nodes; block++) if (Looms.hasWayIn(loom, block)) add(nodes, block);
+        }
+
+        /** Takes the counts and flows as they are told now. */
+        private void readNow() {
+            now = new int[from.length];
+            counts = new int[from.length];
+            int edge = 0;
+            for (int block = 0; block < nodes; block++) {
+                for (int slot = 0; loom.isThere(block) && slot < loom.block(block, 's'); slot++) {
+                    now[edge] = loom.flow(block, slot);
+                    counts[edge++] = loom.counted(block, slot);
+                }
+            }
+            for (int block = 0; block < nodes; block++) {
+                if (!Looms.hasWayIn(loom, block)) continue;
+                now[edge] = loom.flow(block, -1);
+                counts[edge++] = loom.counted(block, -1);
+            }
+        }
+
+        int changed() {
+            int sum = 0;
+            for (int edge = 0; edge < from.length; edge++) sum += Math.abs(now[edge] - counts[edge]);
+            return sum;
+        }
+
+        /** One more, or one less, costs what it changes, and then what it adds to the row, the first edge most. */
+        boolean hasNoBetter() {
+            readNow();
+            BigInteger change = BigInteger.ONE.shiftLeft(8 * from.length + 8);
+            BigInteger[] cost = new BigInteger[nodes + 1];
+            java.util.Arrays.fill(cost, BigInteger.ZERO);
+            for (int pass = 0; pass <= nodes + 1; pass++) {
+                boolean isShorter = false;
+                for (int edge = 0; edge < from.length; edge++) {
+                    BigInteger row = BigInteger.ONE.shiftLeft(8 * (from.length - edge));
+                    BigInteger more = (now[edge] >= counts[edge] ? change : change.negate()).add(row);
+                    BigInteger less = (now[edge] > counts[edge] ? change.negate() : change).subtract(row);
+                    if (isCheaper(cost, from[edge], to[edge], more)) isShorter = true;
+                    if (now[edge] > 0 && isCheaper(cost, to[edge], from[edge], less)) isShorter = true;
+                }
+                if (!isShorter) return true;
+            }
+            return false;
+        }
+
+        private static boolean isCheaper(BigInteger[] cost, int tail, int head, BigInteger step) {
+            BigInteger sum = cost[tail].add(step);
+            if (sum.compareTo(cost[head]) >= 0) return false;
+            cost[head] = sum;
+            return true;
         }
 
         private void add(int tail, int head) {
