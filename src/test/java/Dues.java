@@ -1,7 +1,9 @@
 /** What the tests share: each due answer that is not given is printed, and lets the test fail at its end. */
 final class Dues {
+    private static final int MOST_PRINTED = 60;
     private static int wrong = 0;
     private static int looked = 0;
+    private static String place = "";
 
     /** A call of the face. */
     interface Call {
@@ -15,7 +17,16 @@ final class Dues {
         looked++;
         if (want.equals(got)) return;
         wrong++;
-        System.out.println(what + ": due is " + want + ", got " + got);
+        if (wrong <= MOST_PRINTED) System.out.println(place + what + ": due is " + want + ", got " + got);
+    }
+
+    /** What is due from now on is told to be under this, or nothing. */
+    static void under(String name) {
+        place = name.isEmpty() ? "" : "[" + name + "] ";
+    }
+
+    static int lookedAt() {
+        return looked;
     }
 
     /** Returns what a call answers, or throws. The machine's own exceptions are told by their names, too. */

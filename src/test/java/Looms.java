@@ -169,4 +169,124 @@ final class Looms {
         }
         return text.toString();
     }
+
+    /** An old image of these bytes, in pieces of 40. */
+    static Blockloom code(int... bytes) {
+        Blockloom loom = new Blockloom();
+        for (int address = 0; address < bytes.length; address++) {
+            if (address % 40 == 0) loom.function();
+            loom.op('n', 0, 0);
+        }
+        loom.link();
+        for (int address = 0; address < bytes.length; address++) loom.poke(address, bytes[address]);
+        return loom;
+    }
+
+    /** An object for which something of all was done. */
+    static Blockloom full() {
+        Blockloom loom = apart("F d1 z1,0 L1 p1 c1 f2 w1,0 h L0 p2 j1 T0,0 T0,1 F L0 t1 L1 p0 r G0,1,1 F p3 r F p3 r p4 h");
+        loom.feed(2);
+        loom.feed(7);
+        loom.drop();
+        loom.fold();
+        loom.train(1);
+        for (int function = 0; function < 3; function++) {
+            loom.letFlow(function);
+            loom.order(function);
+        }
+        loom.place();
+        loom.make(4, true);
+        loom.run(1);
+        return loom;
+    }
+
+    /** An object whose old image has a fault, with a run behind it. */
+    static Blockloom faulty() {
+        Blockloom loom = linked("F d1 p1 n h F r");
+        loom.feed(3);
+        loom.run(0);
+        loom.poke(2, 255);
+        loom.apart();
+        return loom;
+    }
+
+    /** Three functions and four blocks, of which the block 1 was dropped, and the function 2 with the block 3 folded. */
+    static Blockloom takenAway() {
+        Blockloom loom = apart("F p1 h p2 h F r F r");
+        loom.drop();
+        loom.fold();
+        return loom;
+    }
+
+    /** The same adopted and taken apart, so that the function 2 has no piece. */
+    static Blockloom withoutPiece() {
+        Blockloom loom = takenAway();
+        loom.make(1, false);
+        loom.adopt();
+        loom.apart();
+        return loom;
+    }
+
+    private static void tell(StringBuilder text, Dues.Call... calls) {
+        for (Dues.Call call : calls) text.append(Dues.of(call)).append(' ');
+        text.append('\n');
+    }
+
+    /** All that can be asked of an object, and then, by altering it, what it holds besides. */
+    static String all(Blockloom loom) {
+        StringBuilder text = new StringBuilder();
+        tell(text, loom::checksum, loom::isSound, loom::end, loom::fault, loom::faultAt, loom::isLike, loom::meanBytes);
+        tell(text, () -> prints(loom), () -> loom.told('j'), () -> loom.told('t'), () -> loom.told('m'), () -> loom.told('d'));
+        for (int image = 0; image < 2; image++) tellImage(text, loom, image);
+        if (of(loom::blocks)) tellApart(text, loom);
+        tell(text, () -> ran(loom, 0), () -> ran(loom, 1));
+        tellDraft(text, loom);
+        tell(text, loom::link, loom::clear, loom::wipe);
+        tellImage(text, loom, 0);
+        return text.toString();
+    }
+
+    private static boolean of(Dues.Call call) {
+        return Dues.of(call) instanceof Integer;
+    }
+
+    private static void tellImage(StringBuilder text, Blockloom loom, int image) {
+        tell(text, () -> bytes(loom, image), () -> pieces(loom, image), () -> guards(loom, image), () -> loom.longs(image));
+        for (int table = 0; table < 4; table++) text.append(table(loom, image, table)).append('/');
+        for (int each = 0; each < 8; each++) {
+            int function = each;
+            tell(text, () -> loom.begins(image, function));
+        }
+    }
+
+    private static void tellApart(StringBuilder text, Blockloom loom) {
+        tell(text, () -> blocks(loom), () -> counts(loom, false), () -> counts(loom, true), () -> placed(loom), loom::hotShare);
+        for (int each = 0; each < 8; each++) {
+            int function = each;
+            tell(text, () -> loom.same(function), () -> order(loom, function), () -> loom.gain(function));
+        }
+    }
+
+    /** What the draft has can be seen by what it takes. */
+    private static void tellDraft(StringBuilder text, Blockloom loom) {
+        tell(text, loom::link, () -> bytes(loom, 0), () -> guards(loom, 0));
+        for (int table = 0; table < 4; table++) {
+            int number = table;
+            tell(text, () -> table(loom, 0, number), () -> loom.table(number, 0));
+        }
+        for (int label = 0; label < 10; label++) {
+            int number = label;
+            tell(text, () -> loom.label(number));
+        }
+        tell(text, () -> loom.guard(0, 0, 0), () -> loom.op('h', 0, 0), loom::function, () -> loom.op('h', 0, 0));
+    }
+
+    /** Operations that do so many works, 949 or more, with the registers 2 to 5 alone. */
+    static String works(int many) {
+        boolean isMore = many >= 994;
+        StringBuilder text = new StringBuilder(isMore ? "s2,1 s3,30 s4,33" : "s2,1 s3,27 s4,35");
+        text.append(" m3,4 L9 b3,2 y3,9");
+        for (int done = isMore ? 994 : 949; done < many; done++) text.append(" a5,5");
+        return text.toString();
+    }
 }

@@ -136,15 +136,6 @@ final class RunsTest {
         Dues.due("short ways", "| i 0 2 2 2 0", shortWays().trim());
     }
 
-    /** Operations that do so many works, 949 or more. */
-    private static String works(int many) {
-        boolean isMore = many >= 994;
-        StringBuilder text = new StringBuilder(isMore ? "s2,1 s3,30 s4,33" : "s2,1 s3,27 s4,35");
-        text.append(" m3,4 L9 b3,2 y3,9");
-        for (int done = isMore ? 994 : 949; done < many; done++) text.append(" a5,5");
-        return text.toString();
-    }
-
     private static void dueEnd(String text, String want, int... fed) {
         Blockloom loom = Looms.linked(text);
         for (int number : fed) loom.feed(number);
@@ -153,17 +144,17 @@ final class RunsTest {
     }
 
     private static void sAheadOfOthers() {
-        dueEnd("F " + works(999) + " h", "1000 h");
-        dueEnd("F " + works(1000) + " h", "1000 s");
-        dueEnd("F " + works(999) + " r", "1000 r");
-        dueEnd("F " + works(1000) + " t1", "1000 s");
-        dueEnd("F s7,9 " + works(998) + " f7 h", "999 x");
-        dueEnd("F s7,9 " + works(999) + " f7 h", "1000 s");
+        dueEnd("F " + Looms.works(999) + " h", "1000 h");
+        dueEnd("F " + Looms.works(1000) + " h", "1000 s");
+        dueEnd("F " + Looms.works(999) + " r", "1000 r");
+        dueEnd("F " + Looms.works(1000) + " t1", "1000 s");
+        dueEnd("F s7,9 " + Looms.works(998) + " f7 h", "999 x");
+        dueEnd("F s7,9 " + Looms.works(999) + " f7 h", "1000 s");
         int[] fed = {0, 0, 0, 0, 0, 0, 0, 0, 0, 0, 0, 0, 1};
-        dueEnd("F d1 y1,0 c0 h L0 " + works(974) + " c0 h", "999 d", fed);
-        dueEnd("F d1 y1,0 c0 h L0 " + works(975) + " c0 h", "1000 s", fed);
-        dueEnd("F " + works(1000) + " L0 j0", "1000 l");
-        Blockloom loom = Looms.linked("F " + works(1000) + " h");
+        dueEnd("F d1 y1,0 c0 h L0 " + Looms.works(974) + " c0 h", "999 d", fed);
+        dueEnd("F d1 y1,0 c0 h L0 " + Looms.works(975) + " c0 h", "1000 s", fed);
+        dueEnd("F " + Looms.works(1000) + " L0 j0", "1000 l");
+        Blockloom loom = Looms.linked("F " + Looms.works(1000) + " h");
         loom.poke(loom.size(0) - 1, 255);
         Dues.due("no operation behind 1000 works", 1000, loom.run(0));
         Dues.due("i, not s", 'i', loom.end());
