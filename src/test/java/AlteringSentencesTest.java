@@ -80,6 +80,8 @@ final class AlteringSentencesTest {
             dueThreaded("F p1 j0 L0 z1,1 L1 h", 0, "0@0 p> 1; 1@4 >c1 2 2; 2@7 >h -1");
             dueThreaded("F p1 j0 L0 w1,0 L1 h T0,1", 0, "0@0 p> 1; 1@4 >w1 2 2; 2@6 >h -1");
             dueThreaded("F p1 j0 L0 r", 0, "0@0 p> 1; 1@4 >r -1");
+            dueThreaded("F L0 j2 L1 h L2 p1 j0", 1, "0@0 > 2; 1@3 >h -1; 2@4 p> 2");
+            dueThreaded("F L0 j2 h L2 p1 z1,0 h", 1, "0@0 > 2; 1@3 >h -1; 2@4 p>c1 2 3; 3@8 >h -1");
             StringBuilder text = new StringBuilder("F j0");
             for (int label = 0; label < 9; label++) text.append(" L").append(label).append(" j").append(label + 1);
             Blockloom loom = Looms.apart(text + " L9 h");
@@ -244,6 +246,8 @@ final class AlteringSentencesTest {
             dueApart("L0 t1 L1 r G0,1,1", "t1 r");
             dueApart("L0 p1 L1 r G0,1,1", "p1 L1 r r j1");
             dueAlike("L0 t1 L1 r G0,1,1", "L0 n t1 L1 r G0,1,1");
+            dueFolded("F r F L0 t1 L1 r G0,1,1 F t1 r", "012");
+            dueFolded("F r F t1 r F L0 t1 L1 r G0,1,1", "012");
         });
         Sentences.part(6, "and by guards;", () -> {
             dueApart("L0 t1 L1 r L2 h G0,1,1", "L0 t1 L1 r L2 h G0,1,2");
@@ -334,6 +338,7 @@ final class AlteringSentencesTest {
             Dues.due("one", 1, more.fold());
             more.drop();
             Dues.due("one more by this", 1, more.fold());
+            Dues.due("both are the same", "0 0", more.same(1) + " " + more.same(2));
             Dues.due("without pieces", 0, Looms.withoutPiece().fold());
         });
         Sentences.promise(41, NOT_APART, () -> Sentences.needsApart(Blockloom::fold));

@@ -2,7 +2,6 @@ import java.util.NoSuchElementException;
 
 /** Part 4 and the promises 24 to 32, sentence by sentence: what was taken apart. */
 final class ApartSentencesTest {
-    private static final Class<IllegalArgumentException> ARGUMENT = IllegalArgumentException.class;
     private static final Class<NoSuchElementException> NONE = NoSuchElementException.class;
     private static final int[] FAR = {-1, Integer.MIN_VALUE, Integer.MAX_VALUE};
 
@@ -273,6 +272,14 @@ final class ApartSentencesTest {
             }
             Dues.due("placed", "0 1 2", Looms.placed(loom));
             for (int block = 0; block < 3; block++) Dues.due("function of " + block, block, loom.block(block, 'f'));
+            Blockloom zero = Looms.apart("F p1 r F p1 r F p1 r");
+            zero.fold();
+            zero.make(1, false);
+            Dues.due("apart anew with pieces", 3, zero.apart());
+            Dues.due("none is the same", "1 2", zero.same(1) + " " + zero.same(2));
+            zero.adopt();
+            Dues.due("one block", 1, zero.apart());
+            Dues.due("the same as 0", "0 0", zero.same(1) + " " + zero.same(2));
         });
     }
 
@@ -283,6 +290,7 @@ final class ApartSentencesTest {
             dueBlocks("F p1 L0 p2 L1 p3 z2,1 h", "0@0 pp> 1; 1@2 p>c2 1 2; 2@6 >h -1");
             dueBlocks("F p1 L0 p2 L1 p3 w2,1 h T1,1 T2,0", "0@0 pp> 1; 1@2 p>w2 1 2; 2@5 >h -1");
             dueBlocks("F p1 L0 p2 L1 p3 h T1,1 T2,0", "0@0 ppp>h -1");
+            dueBlocks("F s1,1 a1,2 L0 p2 L1 p3 h T1,1 T2,0", "0@0 sapp>h -1");
             dueBlocks("F p1 L0 p2 L1 p3 L2 p4 h G0,1,2", "0@0 p> 1; 1@1 p> 2 ^3; 2@2 p> 3; 3@3 p>h -1");
             dueBlocks("F p1 L0 p2 L1 p3 p4 h L2 G0,2,0", "0@0 p> 1; 1@1 ppp>h -1 ^1");
             dueBlocks("F p1 c1 p2 h F r", "0@0 pcp>h -1; 1@6 >r -1");
@@ -519,11 +527,7 @@ final class ApartSentencesTest {
         Sentences.promise(29, "Throws `IndexOutOfBoundsException` if there is no such block, also one that was taken away", () ->
             Sentences.needsBlock((loom, block) -> loom.block(block, 's'), true));
         Sentences.promise(29, "Throws `IllegalArgumentException` if there is no such thing", () -> {
-            for (int sign = 0; sign < 300; sign++) {
-                char what = (char) sign;
-                if ("fbosrg".indexOf(what) >= 0) Dues.due("there is " + what, true, Looms.full().block(0, what) >= -1);
-                else if (sign % 16 == 0 || what == 'e' || what == 'c' || what == 'F') Sentences.refused(ARGUMENT, Looms::full, loom -> loom.block(0, what));
-            }
+            Sentences.needsThing("fbosrg", (loom, what) -> loom.block(0, what));
         });
     }
 

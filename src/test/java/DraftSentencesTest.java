@@ -417,6 +417,16 @@ final class DraftSentencesTest {
             for (int table = 0; table < 4; table++) Dues.due("a table", 1, loom.table(table, 0));
             Dues.due("a guard", 1, loom.guard(0, 1, 2));
             loom.wipe();
+            for (int owner = 0; owner < 3; owner++) {
+                Looms.draft(loom, "F L0 r F L0 r F L0 r".substring(0, 7 * owner + 6));
+                for (int table = 0; table < 4; table++) Dues.due("of the function " + owner, 1, loom.table(table, 0));
+                loom.wipe();
+            }
+            Looms.draft(loom, "F L0 r F L0 r T0,0 T1,0 T2,0 T3,0");
+            loom.wipe();
+            loom.function();
+            Dues.due("of the function 0 again", 1, loom.table(0, 0));
+            loom.wipe();
             Looms.draft(loom, "F r");
             Dues.due("no tables and guards", 1, loom.link());
             Dues.due("none", "", Looms.guards(loom, 0) + Looms.table(loom, 0, 0));

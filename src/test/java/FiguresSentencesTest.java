@@ -234,8 +234,8 @@ final class FiguresSentencesTest {
             loom.poke(0, 9);
             Dues.due("not apart", sum(4, 9, 255, 83, 82, 0, 0, 2, 'h', 45), loom.checksum());
         });
-        Sentences.promise(53, "and, if the old image is apart without a fault, for each block 1 or 0 for being there, the code of its end, and for its "
-            + "way in, if it has one, and its slots, the count, the flow and where it goes, -1 for the way in;", () -> {
+        Sentences.promise(53, "and, if the old image is apart without a fault, for each block 1 or 0 for being there, the code of its end, and "
+            + "for its way in, if it has one, and its slots, the count, the flow and where it goes, -1 for the way in;", () -> {
                 Blockloom loom = Looms.apart("F z1,0 n h L0 r");
                 loom.make(1, false);
                 int[] image = {6, 65, 0, 2, 0, 83, 82, 4, 49, 1, 83, 82, 1, 0, 45, 45};
@@ -300,6 +300,23 @@ final class FiguresSentencesTest {
                 Dues.due("altered since", true, loom.isSound());
                 Dues.due("the last run stays", 'h', loom.end());
             });
+        Sentences.promise(54, "no order of up to 8 blocks gains more than one that was ordered since its function was let flow last,", () -> {
+            Blockloom loom = Looms.apart("F L0 h L1 y1,3 L2 h L3 h L4 j2 G0,1,1 G0,1,4");
+            int[] counts = {10, 100, 10};
+            for (int round = 0; round < 3; round++) {
+                loom.count(1, 0, counts[round]);
+                loom.count(1, 1, 9);
+                loom.count(4, 0, 9);
+                loom.count(2, 0, counts[round] + 9);
+                loom.count(3, 0, 9);
+                loom.count(1, -1, counts[round] + 9);
+                loom.count(4, -1, 9);
+                Dues.due("it flows", 0, loom.letFlow(0));
+                Dues.due("ordered ahead of that", true, loom.isSound());
+                Dues.due("ordered", counts[round] == 10 ? 18 : 100, loom.order(0));
+                Dues.due("ordered since", true, loom.isSound());
+            }
+        });
         Sentences.promise(54, "Returns whether all of this is so.", () -> {
             Dues.due("new object", true, new Blockloom().isSound());
             Dues.due("a draft", true, Looms.drafted("F j0").isSound());

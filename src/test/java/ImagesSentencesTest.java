@@ -256,6 +256,7 @@ final class ImagesSentencesTest {
             Sentences.refused(NONE, Looms::full, loom -> loom.byteAt(0, loom.size(0)), loom -> loom.byteAt(1, loom.size(1)));
             Sentences.refused(NONE, () -> Looms.linked("F h"), loom -> loom.byteAt(1, 0), loom -> loom.byteAt(0, 1));
             Sentences.refused(NONE, Blockloom::new, loom -> loom.byteAt(0, 0));
+            Sentences.needsNew(loom -> loom.byteAt(1, 0));
             Dues.due("all that there are", true, Looms.full().byteAt(0, 24) + Looms.full().byteAt(1, Looms.full().size(1) - 1) > 0);
         });
     }
@@ -326,6 +327,10 @@ final class ImagesSentencesTest {
             Sentences.refused(NONE, Looms::full, loom -> loom.begins(0, 4), loom -> loom.begins(1, 4), loom -> loom.begins(0, 8));
             Sentences.refused(NONE, () -> Looms.linked("F h"), loom -> loom.begins(1, 0), loom -> loom.begins(0, 1));
             Sentences.refused(NONE, () -> Looms.drafted("F h"), loom -> loom.begins(0, 0));
+            for (int function = 0; function < 4; function++) {
+                int number = function;
+                Sentences.needsNew(loom -> loom.begins(1, number));
+            }
         });
     }
 
@@ -368,13 +373,10 @@ final class ImagesSentencesTest {
             Sentences.refused(NONE, Looms::full, loom -> loom.piece(0, 4, 'b'), loom -> loom.piece(1, 16, 'b'));
             Sentences.refused(NONE, Looms::withoutPiece, loom -> loom.piece(0, 2, 'f'), loom -> loom.piece(1, 0, 'f'));
             Sentences.refused(NONE, () -> Looms.drafted("F h"), loom -> loom.piece(0, 0, 'f'));
+            Sentences.needsNew(loom -> loom.piece(1, 0, 'f'));
         });
         Sentences.promise(13, "Throws `IllegalArgumentException` if there is no such thing", () -> {
-            for (int sign = 0; sign < 300; sign++) {
-                char what = (char) sign;
-                if (what == 'f' || what == 'b' || what == 'e') Dues.due("there is " + what, true, Looms.full().piece(0, 0, what) >= 0);
-                else if (sign % 16 == 0 || what == 'a' || what == 'u' || what == 'F') Sentences.refused(ARGUMENT, Looms::full, loom -> loom.piece(0, 0, what));
-            }
+            Sentences.needsThing("fbe", (loom, what) -> loom.piece(0, 0, what));
         });
     }
 
@@ -408,6 +410,7 @@ final class ImagesSentencesTest {
             Sentences.refused(NONE, () -> Looms.linked("F L0 h T0,0 T3,0 T3,0 T3,0 T3,0 T3,0"), loom -> loom.tableAt(0, 3, 5),
                 loom -> loom.tableAt(0, 0, 1), loom -> loom.tableAt(1, 0, 0));
             Sentences.refused(NONE, () -> Looms.drafted("F L0 h T0,0"), loom -> loom.tableAt(0, 0, 0));
+            Sentences.needsNew(loom -> loom.tableAt(1, 0, 0));
         });
     }
 
@@ -437,13 +440,10 @@ final class ImagesSentencesTest {
             Sentences.refused(NONE, Looms::full, loom -> loom.guardAt(0, 1, 'f'), loom -> loom.guardAt(1, 1, 'f'));
             Sentences.refused(NONE, () -> Looms.linked("F L0 h L1 G0,1,0"), loom -> loom.guardAt(1, 0, 'f'), loom -> loom.guardAt(0, 1, 'a'));
             Sentences.refused(NONE, () -> Looms.drafted("F L0 h L1 G0,1,0"), loom -> loom.guardAt(0, 0, 'f'));
+            Sentences.needsNew(loom -> loom.guardAt(1, 0, 'f'));
         });
         Sentences.promise(15, "Throws `IllegalArgumentException` if there is no such thing", () -> {
-            for (int sign = 0; sign < 300; sign++) {
-                char what = (char) sign;
-                if (what == 'f' || what == 'u' || what == 'a') Dues.due("there is " + what, true, Looms.full().guardAt(0, 0, what) >= 0);
-                else if (sign % 16 == 0 || what == 'b' || what == 'e' || what == 't') Sentences.refused(ARGUMENT, Looms::full, loom -> loom.guardAt(0, 0, what));
-            }
+            Sentences.needsThing("fua", (loom, what) -> loom.guardAt(0, 0, what));
         });
     }
 
@@ -452,7 +452,8 @@ final class ImagesSentencesTest {
             Blockloom loom = Looms.full();
             String made = Looms.bytes(loom, 1) + Looms.pieces(loom, 1) + Looms.guards(loom, 1) + Looms.table(loom, 1, 0) + loom.begins(1, 3);
             loom.adopt();
-            Dues.due("old one", made, Looms.bytes(loom, 0) + Looms.pieces(loom, 0) + Looms.guards(loom, 0) + Looms.table(loom, 0, 0) + loom.begins(0, 3));
+            String old = Looms.bytes(loom, 0) + Looms.pieces(loom, 0) + Looms.guards(loom, 0) + Looms.table(loom, 0, 0) + loom.begins(0, 3);
+            Dues.due("old one", made, old);
             Dues.refused("not apart", UNSUPPORTED, loom::blocks);
             Dues.due("no fault", '-', loom.fault());
             Dues.due("no new one", 0, loom.size(1));
@@ -469,14 +470,7 @@ final class ImagesSentencesTest {
             Dues.due("one", 1, loom.adopt());
         });
         Sentences.promise(16, "Throws `NoSuchElementException` if there is none", () -> {
-            Sentences.refused(NONE, Blockloom::new, Blockloom::adopt);
-            Sentences.refused(NONE, Looms::takenAway, Blockloom::adopt);
-            Sentences.refused(NONE, Looms::faulty, Blockloom::adopt);
-            Sentences.refused(NONE, () -> {
-                Blockloom loom = Looms.full();
-                loom.adopt();
-                return loom;
-            }, Blockloom::adopt);
+            Sentences.needsNew(Blockloom::adopt);
         });
     }
 }

@@ -200,6 +200,27 @@ final class Looms {
         return loom;
     }
 
+    /** The same with the new image adopted. */
+    static Blockloom adopted() {
+        Blockloom loom = full();
+        loom.adopt();
+        return loom;
+    }
+
+    /** The same linked anew. */
+    static Blockloom linkedAnew() {
+        Blockloom loom = full();
+        loom.link();
+        return loom;
+    }
+
+    /** The same with a byte set to what it was. */
+    static Blockloom poked() {
+        Blockloom loom = full();
+        loom.poke(0, loom.byteAt(0, 0));
+        return loom;
+    }
+
     /** An object whose old image has a fault, with a run behind it. */
     static Blockloom faulty() {
         Blockloom loom = linked("F d1 p1 n h F r");
@@ -279,6 +300,11 @@ final class Looms {
             tell(text, () -> loom.label(number));
         }
         tell(text, () -> loom.guard(0, 0, 0), () -> loom.op('h', 0, 0), loom::function, () -> loom.op('h', 0, 0));
+    }
+
+    /** So many like operations. */
+    static String ops(String op, int many) {
+        return (" " + op).repeat(many);
     }
 
     /** Operations that do so many works, 949 or more, with the registers 2 to 5 alone. */

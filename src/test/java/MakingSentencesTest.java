@@ -55,12 +55,6 @@ final class MakingSentencesTest {
         }
     }
 
-    private static String ops(String sign, int many) {
-        StringBuilder text = new StringBuilder();
-        for (int op = 0; op < many; op++) text.append(' ').append(sign);
-        return text.toString();
-    }
-
     private static void pieces() {
         Sentences.part(8, "The new image has for each function, in their order, a piece with its blocks in its order,", () -> {
             Blockloom loom = Looms.apart("F p1 h F p2 r F p3 r");
@@ -112,6 +106,9 @@ final class MakingSentencesTest {
             loom.thread();
             made(loom, 1, true);
             Dues.due("no weights any more", "0:0-5 1:5-10", Looms.pieces(loom, 1));
+            Blockloom first = trained("F p1 h L0 p2 j0");
+            made(first, 1, true);
+            Dues.due("the first one alone", "0:0-2 0:2-5", Looms.pieces(first, 1));
         });
         Sentences.part(8, "blocks with a weight of 0, but for the first one, are left out of that,", () -> {
             Blockloom loom = Looms.apart("F h L0 p1 j0 p2 h");
@@ -127,7 +124,8 @@ final class MakingSentencesTest {
             made(all, 1, true);
             Dues.due("none is left out", "0:0-2", Looms.pieces(all, 1));
         });
-        Sentences.part(8, "and stand, in their order, in a second piece, behind the pieces of all functions, these pieces in the same order, not aligned.", () -> {
+        Sentences.part(8, "and stand, in their order, in a second piece, behind the pieces of all functions, these pieces in the same "
+            + "order, not aligned.", () -> {
             Blockloom loom = trained("F d1 y1,0 p1 h L0 p2 z1,1 c1 h L1 p3 h F d1 y1,0 p4 r L0 p5 r F p6 r", 7, 7);
             Dues.due("blocks", "0@0 d>c1 1 2; 1@4 p>h -1; 2@6 p>c1 4 3; 3@10 c>h -1; 4@14 p>h -1; 5@16 d>c1 6 7; 6@20 p>r -1; 7@22 p>r -1; "
                 + "8@24 p>r -1", Looms.blocks(loom));
@@ -143,6 +141,25 @@ final class MakingSentencesTest {
             Dues.due("functions", "2 0 1", Looms.placed(loom));
             made(loom, 8, true);
             Dues.due("pieces by the order of functions", "2:0-2 0:8-18 1:24-29 0:29-33 1:33-35", Looms.pieces(loom, 1));
+            StringBuilder text = new StringBuilder();
+            StringBuilder pieces = new StringBuilder();
+            for (int function = 0; function < 8; function++) {
+                text.append(" F z1,0 p1 r L0 r");
+                pieces.append(' ').append(function).append(':').append(4 * function).append('-').append(4 * function + 3);
+            }
+            for (int function = 0; function < 8; function++) {
+                pieces.append(' ').append(function).append(':').append(31 + 2 * function).append('-').append(33 + 2 * function);
+            }
+            Blockloom all = Looms.apart(text.toString());
+            for (int function = 0; function < 8; function++) {
+                for (int block = 3 * function; block < 3 * function + 3; block += 2) all.count(block, 0, 5);
+                all.count(3 * function, -1, 5);
+            }
+            letFlow(all);
+            made(all, 4, true);
+            Dues.due("two pieces of each", pieces.substring(1), Looms.pieces(all, 1));
+            all.adopt();
+            Dues.due("all are read", 24, all.apart());
         });
     }
 
@@ -218,7 +235,7 @@ final class MakingSentencesTest {
 
     /** A function whose cold piece stands behind 123 bytes and so many more: jumps to it, and back. */
     private static Blockloom far(int more) {
-        return trained("F d1 z1,0 L1 p1 c1 h L0 p2 j1 F" + ops("c2", 38) + " r F" + ops("p3", more) + " r", 5);
+        return trained("F d1 z1,0 L1 p1 c1 h L0 p2 j1 F" + Looms.ops("c2", 38) + " r F" + Looms.ops("p3", more) + " r", 5);
     }
 
     private static void ways() {
@@ -228,6 +245,11 @@ final class MakingSentencesTest {
             Dues.due("all long in the old one", 3, loom.longs(0));
             made(loom, 1, false);
             Dues.due("none in the new one", 0, loom.longs(1));
+            Blockloom again = far(7);
+            made(again, 1, true);
+            Dues.due("some are long", 2, again.longs(1));
+            made(again, 1, false);
+            Dues.due("all are short as it is made again", 0, again.longs(1));
         });
         Sentences.part(8, "as long as some way does not fit, all such ones become long,", () -> {
             int[] longs = {0, 1, 1, 2};
@@ -252,7 +274,8 @@ final class MakingSentencesTest {
 
     private static void layingAnew() {
         Sentences.part(8, "and all is laid anew.", () -> {
-            Blockloom loom = trained("F d1 s2,1 z1,0 z2,3 L1 p1 c1 h L0 p2 j1 L3 p3 j1 F" + ops("c2", 38) + " r F" + ops("p4", 4) + " r", 5);
+            String others = " F" + Looms.ops("c2", 38) + " r F" + Looms.ops("p4", 4) + " r";
+            Blockloom loom = trained("F d1 s2,1 z1,0 z2,3 L1 p1 c1 h L0 p2 j1 L3 p3 j1" + others, 5);
             made(loom, 1, true);
             Dues.due("one becomes long by another one", 3, loom.longs(1));
             Dues.due("pieces", "0:0-14 1:14-129 2:129-134 0:134-141", Looms.pieces(loom, 1));
@@ -282,6 +305,10 @@ final class MakingSentencesTest {
             Blockloom loom = Looms.apart("F d1 w1,1 n j0 L0 p1 n h L1 p2 h T1,1 T1,0 T1,1 T1,1 T1,0");
             made(loom, 1, false);
             Dues.due("addresses", "5 3 5 5 3", Looms.table(loom, 1, 1));
+            loom = Looms.apart("F d1 w1,1 L0 p1 w1,0 L1 p2 w1,3 L2 h T1,0 T1,1 T0,2 T0,1 T0,0 T0,2 T0,1 T3,0 T3,1 T3,2 T3,0 T3,2");
+            made(loom, 1, false);
+            Dues.due("of three switches", "9 6 3 9 6/3 6/3 6 9 3 9", Looms.table(loom, 1, 0) + "/" + Looms.table(loom, 1, 1) + "/"
+                + Looms.table(loom, 1, 3));
             loom = Looms.apart("F d1 w1,1 L0 j1 L1 p2 w1,1 h T1,0");
             loom.thread();
             loom.drop();
@@ -304,7 +331,8 @@ final class MakingSentencesTest {
     }
 
     private static void guards() {
-        Sentences.part(8, "guards are one for each row of blocks one behind the other in a piece that have their guard at one block, by addresses;", () -> {
+        Sentences.part(8, "guards are one for each row of blocks one behind the other in a piece that have their guard at one block, "
+            + "by addresses;", () -> {
             Blockloom loom = Looms.apart("F L0 p1 L1 p2 L2 p3 L3 p4 h G0,1,3 G1,3,3");
             made(loom, 1, false);
             Dues.due("one row of two guards", "0-3^3", Looms.guards(loom, 1));
@@ -343,15 +371,15 @@ final class MakingSentencesTest {
     /** Functions of 590 bytes, and one more of so many. */
     private static Blockloom large(int more) {
         StringBuilder text = new StringBuilder();
-        for (int function = 0; function < 5; function++) text.append(" F").append(ops("c0", 39)).append(" h");
-        return Looms.apart(text + " F" + ops("p1", more - 1) + " h");
+        for (int function = 0; function < 5; function++) text.append(" F").append(Looms.ops("c0", 39)).append(" h");
+        return Looms.apart(text + " F" + Looms.ops("p1", more - 1) + " h");
     }
 
     /** Functions that end at 578 by an aligning of 4, and one more of so many bytes. */
     private static Blockloom ahead(int more) {
         StringBuilder text = new StringBuilder();
-        for (int function = 0; function < 4; function++) text.append(" F").append(ops("c0", 39)).append(" h");
-        return Looms.apart(text + " F" + ops("c0", 32) + " p1 h F" + ops("p1", more - 1) + " h");
+        for (int function = 0; function < 4; function++) text.append(" F").append(Looms.ops("c0", 39)).append(" h");
+        return Looms.apart(text + " F" + Looms.ops("c0", 32) + " p1 h F" + Looms.ops("p1", more - 1) + " h");
     }
 
     /** Six functions with four guarded blocks each between others, and what comes behind. */
@@ -449,7 +477,8 @@ final class MakingSentencesTest {
             loom.make(1, true);
             Dues.due("old, new", "2 1", loom.longs(0) + " " + loom.longs(1));
         });
-        Sentences.promise(49, "Returns how many, in its pieces; in each of these, from the first byte that is no operation on, none is counted.", () -> {
+        Sentences.promise(49, "Returns how many, in its pieces; in each of these, from the first byte that is no operation on, none is "
+            + "counted.", () -> {
             Blockloom loom = Looms.linked("F L0 z1,0 n y1,0 j0 F L0 z1,0 j0 r F L0 j0");
             Dues.due("all", 6, loom.longs(0));
             loom.poke(3, 255);
@@ -473,8 +502,7 @@ final class MakingSentencesTest {
         Sentences.promise(49, "Throws `IndexOutOfBoundsException` if there is no such image", () -> Sentences.needsImage(Blockloom::longs));
         Sentences.promise(49, "Throws `NoSuchElementException` if that image was not made", () -> {
             Sentences.refused(NONE, Blockloom::new, loom -> loom.longs(0), loom -> loom.longs(1));
-            Sentences.refused(NONE, Looms::faulty, loom -> loom.longs(1));
-            Sentences.refused(NONE, Looms::takenAway, loom -> loom.longs(1));
+            Sentences.needsNew(loom -> loom.longs(1));
         });
     }
 
@@ -502,14 +530,7 @@ final class MakingSentencesTest {
             }
         });
         Sentences.promise(50, "Throws `NoSuchElementException` if there is no new image", () -> {
-            Sentences.refused(NONE, Blockloom::new, Blockloom::isLike);
-            Sentences.refused(NONE, Looms::takenAway, Blockloom::isLike);
-            Sentences.refused(NONE, Looms::faulty, Blockloom::isLike);
-            Sentences.refused(NONE, () -> {
-                Blockloom loom = Looms.full();
-                loom.adopt();
-                return loom;
-            }, Blockloom::isLike);
+            Sentences.needsNew(Blockloom::isLike);
         });
     }
 }

@@ -38,6 +38,11 @@ final class OrdersSentencesTest {
     /** Sets the counts of slots by blocks, and then of ways in, and lets all functions flow. */
     private static Blockloom flown(String text, int... counts) {
         Blockloom loom = Looms.apart(text);
+        flow(loom, counts);
+        return loom;
+    }
+
+    private static void flow(Blockloom loom, int... counts) {
         int index = 0;
         for (int block = 0; block < loom.blocks(); block++) {
             for (int slot = 0; slot < loom.block(block, 's'); slot++) loom.count(block, slot, index < counts.length ? counts[index++] : 0);
@@ -49,7 +54,6 @@ final class OrdersSentencesTest {
             int each = function;
             Dues.of(() -> loom.letFlow(each));
         }
-        return loom;
     }
 
     private static void dueOrder(String text, int gain, String order, int... counts) {
@@ -123,11 +127,24 @@ final class OrdersSentencesTest {
     private static final String PAIRS = "F L0 h L1 j5 L2 j6 L3 j7 L4 j8 L5 p1 h L6 p2 h L7 p3 h L8 p4 h G0,1,1 G0,1,2 G0,1,3 G0,1,4";
     private static final String TO_FIVE = "F L0 h L1 j5 L2 j5 L3 h L4 h L5 p1 h h h h G0,1,1 G0,1,2";
 
+    /** Four blocks go to the block 5, by gains of 2, 4, 6 and 8: places of these, if each is another one. */
+    private static void dueFourToFive(int... places) {
+        int[] blocks = new int[4];
+        for (int place = 0; place < 4; place++) blocks[places[place]] = place + 1;
+        for (int block : blocks) if (block == 0) return;
+        int[] gains = new int[4];
+        for (int rank = 0; rank < 4; rank++) gains[blocks[rank] - 1] = 2 * rank + 2;
+        String order = "0 " + blocks[3] + " 5 " + blocks[2] + " " + blocks[1] + " " + blocks[0] + " 6 7 8";
+        dueOrder("F L0 h L1 j5 L2 j5 L3 j5 L4 j5 L5 h h h h G0,1,1 G0,1,2 G0,1,3 G0,1,4", 8, order, 0, gains[0], gains[1], gains[2], gains[3],
+            20, 0, 0, 0, 0, gains[0], gains[1], gains[2], gains[3]);
+    }
+
     private static void joining() {
         Sentences.part(7, "Of one with more, rows are joined: for each two blocks by gain, the greater first,", () -> {
             dueOrder(PAIRS, 20, "0 2 6 4 8 1 5 3 7", 0, 3, 9, 3, 5, 3, 9, 3, 5, 0, 3, 9, 3, 5);
             dueOrder(TO_FIVE, 5, "0 2 5 1 3 4 6 7 8", 0, 4, 5, 0, 0, 9, 0, 0, 0, 0, 4, 5);
             dueOrder(TO_FIVE, 5, "0 1 5 2 3 4 6 7 8", 0, 5, 4, 0, 0, 9, 0, 0, 0, 0, 5, 4);
+            for (int set = 0; set < 256; set++) dueFourToFive(set & 3, set >> 2 & 3, set >> 4 & 3, set >> 6);
         });
         Sentences.part(7, "then by the one ahead,", () ->
             dueOrder(TO_FIVE, 4, "0 1 5 2 3 4 6 7 8", 0, 4, 4, 0, 0, 8, 0, 0, 0, 0, 4, 4));
@@ -143,6 +160,8 @@ final class OrdersSentencesTest {
 
     private static void joiningRefused() {
         Sentences.part(7, "if the one ahead is the last of its row, the other one the first of another one", () -> {
+            dueOrder("F j5 L1 h h L3 j5 h L5 h h h h G1,3,3", 9, "0 5 3 1 2 4 6 7 8", 9, 0, 0, 4, 0, 13, 0, 0, 0, 9, 4);
+            dueOrder("F j5 L1 h h L3 j5 h L5 h h h h G1,3,3", 9, "0 3 5 1 2 4 6 7 8", 4, 0, 0, 9, 0, 13, 0, 0, 0, 4, 9);
             dueOrder("F h L1 j3 L2 j1 L3 j2 h h h h h", 10, "0 2 1 3 4 5 6 7 8", 0, 5, 5, 5);
             dueOrder("F h L1 j2 L2 j3 L3 j1 h h h h h", 10, "0 1 2 3 4 5 6 7 8", 0, 5, 5, 5);
             dueOrder("F L0 h L1 z1,3 L2 h L3 h h h h h h G0,1,1", 5, "0 1 3 2 4 5 6 7 8", 0, 5, 4, 4, 5, 0, 0, 0, 0, 0, 0, 9);
@@ -178,10 +197,16 @@ final class OrdersSentencesTest {
                 dueOrder(NINE, 40, "0 1 2 8 6 3 4 5 7", NINE_COUNTS);
                 dueOrder("F L0 y1,7 L1 y1,8 L2 w1,0 L3 w1,0 L4 j6 L5 y1,2 L6 z1,3 L7 y1,5 L8 y1,6 j5 T0,0", 24, "0 1 8 9 5 2 3 4 6 7",
                     1, 0, 1, 2, 4, 4, 5, 4, 3, 3, 2, 5, 2, 1, 1, 2, 1, 4, 4);
+                dueOrder("F L0 w1,0 L1 w1,0 L2 z1,6 L3 y1,5 L4 z1,1 L5 p1 L6 y1,4 L7 p1 L8 z1,5 j3 T0,5", 22, "0 8 3 4 1 2 6 7 5",
+                    2, 9, 3, 2, 9, 3, 4, 7, 6, 7, 0, 3, 1, 9, 4, 2, 2);
             });
         Sentences.part(7, "of like ones the least block, to the least place.", () -> {
             dueOrder("F L0 w1,0 L1 z1,7 L2 y1,0 L3 p1 L4 z1,8 L5 p1 L6 j0 L7 p1 L8 y1,6 j7 T0,6", 12, "0 1 2 3 7 8 6 5 4",
                 2, 0, 3, 1, 2, 2, 1, 4, 0, 2, 3, 4, 1, 4, 3);
+            dueOrder("F L0 p1 L1 y1,5 L2 z1,5 L3 y1,8 L4 y1,3 L5 y1,5 L6 j0 L7 z1,4 L8 y1,4 L9 p1 j2 T0,1", 31, "0 1 2 7 3 4 5 8 6",
+                4, 3, 0, 5, 3, 6, 4, 6, 6, 3, 1, 4, 3, 5, 6, 2, 0);
+            dueOrder("F L0 p1 L1 p1 L2 z1,0 L3 z1,9 L4 y1,3 L5 z1,8 L6 y1,5 L7 j7 L8 w1,0 L9 y1,3 j4 T0,0", 27, "0 1 2 3 6 7 8 4 5",
+                8, 5, 4, 6, 4, 4, 6, 4, 6, 4, 0, 8, 3, 4, 4, 2, 1);
             dueOrder("F L0 y1,8 L1 w1,0 L2 y1,1 L3 z1,1 L4 j6 L5 y1,4 L6 y1,5 L7 w1,0 L8 j7 j1 T0,3", 16, "0 1 2 3 4 6 5 7 8 9",
                 5, 2, 1, 1, 3, 3, 5, 2, 4, 1, 0, 0, 4, 3, 1, 5, 2, 1);
             dueOrder("F L0 z1,1 L1 z1,2 L2 p1 L3 z1,5 L4 j1 L5 y1,8 L6 y1,8 L7 y1,6 L8 y1,6 j2 T0,8", 31, "0 6 5 7 8 2 3 1 4",
@@ -196,6 +221,17 @@ final class OrdersSentencesTest {
             dueOrder("F L0 p1 L1 y1,4 L2 z1,7 L3 w1,0 L4 w1,0 L5 y1,5 L6 y1,5 L7 p1 L8 w1,0 j0 T0,1", 30, "0 1 2 3 4 5 6 7 8",
                 1, 4, 7, 4, 9, 3, 9, 5, 0, 6, 5, 2, 5, 1, 5, 9, 5);
             dueOrder("F L0 h h h h h h h h L1 h G0,1,1", 0, "0 8 1 2 3 4 5 6 7", 0, 0, 0, 0, 0, 0, 0, 0, 4, 0, 4);
+            int[] asRead = {1, 4, 7, 4, 9, 3, 9, 5, 0, 6, 5, 2, 5, 1, 5, 9, 5};
+            for (int turn = 1; turn < asRead.length; turn++) {
+                int[] turned = new int[asRead.length];
+                for (int index = 0; index < turned.length; index++) turned[index] = asRead[(index * 5 + turn) % turned.length];
+                Blockloom loom = flown("F L0 p1 L1 y1,4 L2 z1,7 L3 w1,0 L4 w1,0 L5 y1,5 L6 y1,5 L7 p1 L8 w1,0 j0 T0,1", turned);
+                loom.order(0);
+                flow(loom, asRead);
+                Dues.due("ordered with other flows ahead, turned by " + turn, 30, loom.order(0));
+                Dues.due("as read", "0 1 2 3 4 5 6 7 8", Looms.order(loom, 0));
+                flow(loom, NINE_COUNTS);
+            }
         });
     }
 
@@ -216,12 +252,6 @@ final class OrdersSentencesTest {
         }
     }
 
-    private static String ops(String sign, int many) {
-        StringBuilder text = new StringBuilder();
-        for (int op = 0; op < many; op++) text.append(' ').append(sign);
-        return text.toString();
-    }
-
     private static void places() {
         Sentences.part(7, "To place orders the functions that are not folded.", () -> {
             Blockloom loom = Looms.apart("F h F p1 r F p1 r F p2 r");
@@ -237,7 +267,7 @@ final class OrdersSentencesTest {
         });
         Sentences.part(7, "and a size, the bytes of its pieces in the old image.", () -> {
             for (int ops = 28; ops <= 29; ops++) {
-                Blockloom loom = Looms.apart("F d1 z1,0 c1 h L0" + ops("p2", 23) + " h F" + ops("p3", ops) + " r");
+                Blockloom loom = Looms.apart("F d1 z1,0 c1 h L0" + Looms.ops("p2", 23) + " h F" + Looms.ops("p3", ops) + " r");
                 loom.feed(1);
                 loom.train(1);
                 loom.letFlow(0);
@@ -248,12 +278,13 @@ final class OrdersSentencesTest {
                 loom.train(1);
                 loom.letFlow(0);
                 loom.letFlow(1);
-                Dues.due("pieces of " + (32 + ops) + " bytes", "0:0-7 1:8-" + (9 + ops) + " 0:" + (9 + ops) + "-" + (33 + ops), Looms.pieces(loom, 0));
+                String pieces = "0:0-7 1:8-" + (9 + ops) + " 0:" + (9 + ops) + "-" + (33 + ops);
+                Dues.due("pieces of " + (32 + ops) + " bytes", pieces, Looms.pieces(loom, 0));
                 Dues.due("rows", ops == 28 ? 1 : 2, loom.place());
             }
         });
         Sentences.part(7, "By weights, the greater first, then numbers:", () -> {
-            String text = "F c1 c2" + ops("p1", 13) + " h F" + ops("p2", 24) + " r F" + ops("p3", 24) + " r";
+            String text = "F c1 c2" + Looms.ops("p1", 13) + " h F" + Looms.ops("p2", 24) + " r F" + Looms.ops("p3", 24) + " r";
             dueRows(text, "2: 0 2 1", 5, 3, 4);
             dueRows(text, "2: 0 1 2", 5, 4, 3);
             dueRows(text, "2: 0 1 2", 5, 4, 4);
@@ -300,13 +331,13 @@ final class OrdersSentencesTest {
             dueRows("F h F c2 r F c3 p1 r F c1 p2 r", "2: 3 1 2 0", 0, 5, 4, 3);
         });
         Sentences.part(7, "and both rows together have no more than 60 bytes,", () -> {
-            dueRows("F c1" + ops("p1", 26) + " h F" + ops("p2", 29) + " r", "1: 0 1", 5, 5);
-            dueRows("F c1" + ops("p1", 26) + " h F" + ops("p2", 30) + " r", "2: 0 1", 5, 5);
-            String three = "F c1 c2" + ops("p1", 13) + " h F" + ops("p2", 19) + " r F" + ops("p3", 19);
+            dueRows("F c1" + Looms.ops("p1", 26) + " h F" + Looms.ops("p2", 29) + " r", "1: 0 1", 5, 5);
+            dueRows("F c1" + Looms.ops("p1", 26) + " h F" + Looms.ops("p2", 30) + " r", "2: 0 1", 5, 5);
+            String three = "F c1 c2" + Looms.ops("p1", 13) + " h F" + Looms.ops("p2", 19) + " r F" + Looms.ops("p3", 19);
             dueRows(three + " r", "1: 0 1 2", 5, 5, 5);
             dueRows(three + " p3 r", "2: 0 1 2", 5, 5, 5);
-            dueRows("F h F c2" + ops("s1,1", 16) + " r F" + ops("s2,2", 11) + " p1 r", "2: 1 2 0", 0, 5, 5);
-            dueRows("F h F c2" + ops("s1,1", 16) + " r F" + ops("s2,2", 12) + " r", "3: 1 2 0", 0, 5, 5);
+            dueRows("F h F c2" + Looms.ops("s1,1", 16) + " r F" + Looms.ops("s2,2", 11) + " p1 r", "2: 1 2 0", 0, 5, 5);
+            dueRows("F h F c2" + Looms.ops("s1,1", 16) + " r F" + Looms.ops("s2,2", 12) + " r", "3: 1 2 0", 0, 5, 5);
         });
         Sentences.part(7, "the row of the called one is put behind that of the caller.", () -> {
             dueRows("F c1 h F c2 r F p1 r", "1: 0 1 2", 3, 4, 5);
@@ -324,6 +355,13 @@ final class OrdersSentencesTest {
         Sentences.part(7, "then by their least function.", () -> {
             dueRows("F h F r F p1 r F c1 r", "3: 0 3 1 2", 9, 5, 5, 5);
             dueRows("F h F r F p1 r", "3: 0 1 2", 4, 4, 4);
+            Blockloom loom = Looms.apart("F c1 c2" + Looms.ops("p1", 13) + " h F" + Looms.ops("p2", 24) + " r F" + Looms.ops("p3", 24) + " r");
+            weigh(loom, 3, 4, 5);
+            Dues.due("the greater first", "2: 0 2 1", loom.place() + ": " + Looms.placed(loom));
+            weigh(loom, 5, 5, 5);
+            Dues.due("by numbers behind that", "2: 0 1 2", loom.place() + ": " + Looms.placed(loom));
+            weigh(loom, 0, 0, 0);
+            Dues.due("by numbers again", "3: 0 1 2", loom.place() + ": " + Looms.placed(loom));
         });
     }
 
@@ -368,7 +406,7 @@ final class OrdersSentencesTest {
             for (int function = 0; function < 8; function++) Dues.due("block", function, loom.orderAt(function, 0));
         });
         Sentences.promise(44, "`index`: its place, from 0", () -> {
-            Blockloom loom = Looms.apart("F" + ops("h", 40));
+            Blockloom loom = Looms.apart("F" + Looms.ops("h", 40));
             for (int place = 0; place < 40; place++) Dues.due("block", place, loom.orderAt(0, place));
         });
         Sentences.promise(44, "Returns the block.", () -> {

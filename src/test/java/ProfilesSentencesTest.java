@@ -6,6 +6,8 @@ final class ProfilesSentencesTest {
     private static final Class<NoSuchElementException> NONE = NoSuchElementException.class;
     private static final int[] FAR = {-2, 9, Integer.MIN_VALUE, Integer.MAX_VALUE};
     private static final String NOT_APART = "Throws `UnsupportedOperationException` if the old image is not apart without a fault";
+    /** A row of ten blocks that go to the next one by both slots. */
+    private static final String LADDER = " z1,0 L0 z1,1 L1 z1,2 L2 z1,3 L3 z1,4 L4 z1,5 L5 z1,6 L6 z1,7 L7 z1,8 L8 z1,9 L9";
     private static final String NO_BLOCK = "Throws `IndexOutOfBoundsException` if there is no such block, also one that was taken away";
     private static final String NO_SLOT = "Throws `NoSuchElementException` if there is no such slot, or way in";
 
@@ -116,6 +118,13 @@ final class ProfilesSentencesTest {
             dueTrained("F p1 L0 p2 h j0", 1, "3: 1/1; 1; 0");
             dueTrained("F p1 n L0 n h j0", 1, "3: 1/1; 1; 0");
             dueTrained("F j0 L0 r", 1, "3: 1/1; 1");
+            dueTrained("F s0,1 s1,1 j0 L0 n L1 r j1", 1, "4: 1/1; 1; 1; 0");
+            Blockloom loom = Looms.apart("F s0,1 s1,1 j0 L1 r L0 p0 j1");
+            loom.make(1, false);
+            loom.adopt();
+            loom.apart();
+            Dues.due("short jumps", 4, loom.train(1));
+            Dues.due("counts of short jumps", "1/1; 1; 1", Looms.counts(loom, false));
             dueTrained("F z1,0 L0 r", 1, "3: 1/1 0; 1");
             String text = "F d1 w1,0 h L0 r L1 r T0,0 T0,1 T0,0";
             dueTrained(text, 1, "3: 1/1 0 0 0; 0; 1; 0", 0);
@@ -216,6 +225,22 @@ final class ProfilesSentencesTest {
             dueFlow("F z1,0 p1 h L0 h", 4, "4/0 4; 4; 0", 1, 2, 5, 0, 4);
             dueFlow("F L0 y1,1 L1 z1,2 L2 y1,3 L3 z1,0 h", 2, "1/1 0; 0 1; 1 0; 0 1; 1", 1, 0, 0, 1, 1, 0, 1, 1, 1, 0);
             dueFlow("F z1,0 L0 h", 19998, "9999/0 9999; 9999", 9999, 9999, 9999, 0);
+            Blockloom loom = Looms.apart("F" + LADDER + " h F" + LADDER + " r F z1,0 p1 L0 r");
+            for (int round = 0; round < 20; round++) {
+                for (int block = 0; block < 22; block++) {
+                    for (int slot = 0; slot < loom.block(block, 's'); slot++) loom.count(block, slot, block % 11 < 10 ? 1 + slot : 3);
+                }
+                loom.count(0, -1, 3);
+                loom.count(11, -1, 3);
+                Dues.due("the function 0", 0, loom.letFlow(0));
+                Dues.due("the function 2", 0, loom.letFlow(2));
+                Dues.due("the function 1", 0, loom.letFlow(1));
+                loom.count(0, -1, 4);
+                Dues.due("one more comes in", 1, loom.letFlow(0));
+                loom.count(21, 0, 2);
+                Dues.due("one less goes out", 1, loom.letFlow(1));
+                Dues.due("sound", true, loom.isSound());
+            }
         });
     }
 

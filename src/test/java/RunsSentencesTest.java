@@ -68,6 +68,21 @@ final class RunsSentencesTest {
             loom.run(0);
             Dues.due("adopted", "0", Looms.prints(loom));
         });
+        Sentences.part(3, "The machine begins where the function 0 does,", () -> {
+            Blockloom loom = Looms.linked("F c1 r F d1 z1,0 h L0 p1 r");
+            loom.feed(1);
+            for (int round = 0; round < 3; round++) {
+                loom.run(0);
+                Dues.due("an open call stays open", "h 1 0", loom.end() + " " + loom.told('d') + " " + loom.prints());
+            }
+            loom.clear();
+            loom.run(0);
+            Dues.due("no call of a former run is open", "r 1 1 5", loom.end() + " " + loom.told('d') + " " + loom.prints() + " " + loom.run(0));
+            Blockloom returns = Looms.linked("F d1 z1,0 r L0 c1 h F h");
+            returns.run(0);
+            returns.feed(1);
+            Dues.due("nothing to return to", "2 r", returns.run(0) + " " + returns.end());
+        });
         Sentences.part(3, "with registers of 0.", () -> {
             Blockloom loom = Looms.linked("F p0 p1 p2 p3 p4 p5 p6 p7 s0,1 s1,1 s2,1 s3,1 s4,1 s5,1 s6,1 s7,1 h");
             for (int round = 0; round < 2; round++) {
@@ -165,6 +180,13 @@ final class RunsSentencesTest {
             Dues.due("ahead of the code", 'i', endOf(80, 200, 83));
             Dues.due("behind the code", 'i', endOf(80, 100, 83));
             Dues.due("right behind the code", 'i', endOf(80, 1, 83));
+            Dues.due("a call ahead of the code", 'i', endOf(88, 128, 0, 83));
+            Dues.due("a call behind the code", 'i', endOf(88, 127, 255, 83));
+            Dues.due("a call right behind the code", 'i', endOf(88, 0, 1, 83));
+            Dues.due("a call right ahead of the code", 'i', endOf(88, 255, 252, 83));
+            due("F j0 L1 p1 h L0 w1,1 T1,1", "0 h 3");
+            due("F j0 L1 p1 h L0 w1,1 T0,1", "i 1");
+            due("F c1 F r", "r 3");
         });
     }
 
@@ -387,12 +409,7 @@ final class RunsSentencesTest {
         Sentences.promise(19, "Throws `NoSuchElementException` if that image was not made", () -> {
             Sentences.refused(NONE, Blockloom::new, loom -> loom.run(0), loom -> loom.run(1));
             Sentences.refused(NONE, () -> Looms.drafted("F h"), loom -> loom.run(0));
-            Sentences.refused(NONE, Looms::faulty, loom -> loom.run(1));
-            Sentences.refused(NONE, () -> {
-                Blockloom loom = Looms.full();
-                loom.link();
-                return loom;
-            }, loom -> loom.run(1));
+            Sentences.needsNew(loom -> loom.run(1));
         });
     }
 
@@ -497,11 +514,7 @@ final class RunsSentencesTest {
             Dues.due("nothing in it", "0 0 1 0", told(loom));
         });
         Sentences.promise(23, "Throws `IllegalArgumentException` if there is no such thing", () -> {
-            for (int sign = 0; sign < 300; sign++) {
-                char what = (char) sign;
-                if ("jtmd".indexOf(what) >= 0) Dues.due("there is " + what, true, Looms.full().told(what) >= 0);
-                else if (sign % 16 == 0 || what == 'w' || what == 'p' || what == 'J') Sentences.refused(ARGUMENT, Looms::full, loom -> loom.told(what));
-            }
+            Sentences.needsThing("jtmd", (loom, what) -> loom.told(what));
             Sentences.refused(ARGUMENT, Blockloom::new, loom -> loom.told('x'));
         });
     }

@@ -20,6 +20,11 @@ final class Sentences {
         Object of(Blockloom loom, int number);
     }
 
+    /** Asks for something by a letter. */
+    interface AskFor {
+        Object of(Blockloom loom, char what);
+    }
+
     /** Makes an object anew, each time the same. */
     interface Recipe {
         Blockloom made();
@@ -154,27 +159,20 @@ final class Sentences {
         }
     }
 
+    /** A call that asks for the new image is refused, if that was not made, or is made no more. */
+    static void needsNew(Ask ask) {
+        Class<java.util.NoSuchElementException> kind = java.util.NoSuchElementException.class;
+        Recipe[] recipes = {Blockloom::new, Looms::takenAway, Looms::faulty, Looms::adopted, Looms::linkedAnew, Looms::poked};
+        for (Recipe recipe : recipes) refused(kind, recipe, ask);
+        Object answer = Dues.of(() -> ask.of(Looms.full()));
+        Dues.due("made it is not refused", false, answer.equals("throws NoSuchElementException"));
+    }
+
     /** A call is refused in all states in which the old image is not apart without a fault. */
     static void needsApart(Ask ask) {
         Class<UnsupportedOperationException> kind = UnsupportedOperationException.class;
-        refused(kind, Blockloom::new, ask);
-        refused(kind, () -> Looms.linked("F p1 h"), ask);
-        refused(kind, Looms::faulty, ask);
-        refused(kind, () -> {
-            Blockloom loom = Looms.full();
-            loom.poke(0, loom.byteAt(0, 0));
-            return loom;
-        }, ask);
-        refused(kind, () -> {
-            Blockloom loom = Looms.full();
-            loom.link();
-            return loom;
-        }, ask);
-        refused(kind, () -> {
-            Blockloom loom = Looms.full();
-            loom.adopt();
-            return loom;
-        }, ask);
+        Recipe[] recipes = {Blockloom::new, Looms::faulty, Looms::adopted, Looms::linkedAnew, Looms::poked};
+        for (Recipe recipe : recipes) refused(kind, recipe, ask);
         Object answer = Dues.of(() -> ask.of(Looms.full()));
         Dues.due("apart it is not refused", false, answer.equals("throws UnsupportedOperationException"));
     }
@@ -205,6 +203,18 @@ final class Sentences {
         for (int function : new int[] {0, 1}) {
             Object answer = Dues.of(() -> ask.of(Looms.takenAway(), function));
             Dues.due("there is a function " + function, false, answer.equals("throws IndexOutOfBoundsException"));
+        }
+    }
+
+    /** A call for something is refused, if there is no such thing, as there is by these letters alone. */
+    static void needsThing(String letters, AskFor ask) {
+        for (int sign = 0; sign < 300; sign++) {
+            char what = (char) sign;
+            if (letters.indexOf(what) >= 0) {
+                Dues.due("there is " + what, true, Dues.of(() -> ask.of(Looms.full(), what)) instanceof Integer);
+            } else if (sign % 16 == 0 || "abcdefgjmorstuwFJ".indexOf(what) >= 0) {
+                refused(IllegalArgumentException.class, Looms::full, loom -> ask.of(loom, what));
+            }
         }
     }
 }
