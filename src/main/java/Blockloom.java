@@ -1469,8 +1469,10 @@ public final class Blockloom {
             events++;
             if (period == 0 || number % period != 0 || slot >= parts.slotCount[block]) return;
             int at = parts.slotStart[block] + slot;
-            if (slot < 0) wayCounts[block] = Math.min(MOST_COUNTED, wayCounts[block] + period);
-            else counts[at] = Math.min(MOST_COUNTED, counts[at] + period);
+            int sum = (slot < 0 ? wayCounts[block] : counts[at]) + period;
+            if (sum > MOST_COUNTED) sum = MOST_COUNTED;
+            if (slot < 0) wayCounts[block] = sum;
+            else counts[at] = sum;
         }
 
         private void fillWeights() {

