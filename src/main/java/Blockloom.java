@@ -1738,7 +1738,7 @@ public final class Blockloom {
             queue[0] = from[edge];
             distance[from[edge]] = 0;
             arcTo[from[edge]] = -1;
-            for (int index = 0; index < waiting && distance[goal] == ENDLESS; index++) {
+            for (int index = 0; index <= nodes && index < waiting && distance[goal] == ENDLESS; index++) {
                 int arc = headArc[queue[index]];
                 for (int step = 0; step < 2 * EDGES && arc >= 0; step++) {
                     int head = headOfArc(arc);
@@ -2143,7 +2143,8 @@ public final class Blockloom {
             int to = rowOf[caller];
             int row = rowOf[function];
             if (to == row || rowBytes[to] + rowBytes[row] > ROW_BYTES) return;
-            for (int index = 0; index < rowLength[row]; index++) {
+            int many = rowLength[row];
+            for (int index = 0; index < many; index++) {
                 int member = rowMembers[row * FUNCTIONS + index];
                 rowMembers[to * FUNCTIONS + rowLength[to]] = member;
                 rowLength[to]++;
@@ -2263,7 +2264,7 @@ public final class Blockloom {
             for (int function = 0; function < parts.image.functionCount; function++) {
                 if (parts.hasBlocks(function)) reach(parts.first[function]);
             }
-            for (int index = 0; index < waiting; index++) reachFrom(queue[index]);
+            for (int index = 0; index < parts.total && index < waiting; index++) reachFrom(queue[index]);
             int taken = 0;
             for (int block = 0; block < parts.total; block++) {
                 if (parts.there[block] && met[block] != mark) {

@@ -262,11 +262,37 @@ final class LanguageTest extends TreePathScanner<Void, Void> {
         return super.visitTypeCast(tree, none);
     }
 
+    /** Rule 9: a counter, that the loop's first line alone changes, against a bound that its body does not change. */
     @Override
     public Void visitForLoop(ForLoopTree tree, Void none) {
         loops++;
-        need("9", tree.getCondition() != null && tree.getInitializer().size() == 1 && tree.getUpdate().size() == 1, tree);
+        boolean isOne = tree.getInitializer().size() == 1 && tree.getUpdate().size() == 1 && tree.getCondition() != null;
+        need("9", isOne, tree);
+        if (!isOne) return super.visitForLoop(tree, none);
+        String counter = ((VariableTree) tree.getInitializer().get(0)).getName().toString();
+        String update = tree.getUpdate().get(0).toString();
+        String bound = boundOf(tree.getCondition(), counter);
+        boolean isUp = update.equals(counter + "++;") && bound.startsWith("<");
+        boolean isDown = update.equals(counter + "--;") && bound.equals("> 0");
+        need("9, counter " + counter + " against " + bound, isUp || isDown, tree);
+        String body = tree.getStatement().toString();
+        need("9, " + counter + " is changed", !isChanged(counter, body), tree);
+        for (String name : bound.split("[^A-Za-z]+")) {
+            need("9, bound " + name + " is changed", name.isEmpty() || !isChanged(name, body), tree);
+        }
         return super.visitForLoop(tree, none);
+    }
+
+    /** What the counter is held against by the first part of a condition. */
+    private static String boundOf(ExpressionTree condition, String counter) {
+        ExpressionTree first = condition;
+        while (first.getKind() == Tree.Kind.CONDITIONAL_AND) first = ((BinaryTree) first).getLeftOperand();
+        String text = first.toString();
+        return text.startsWith(counter + " ") ? text.substring(counter.length() + 1) : "no " + counter;
+    }
+
+    private static boolean isChanged(String name, String body) {
+        return body.matches("(?s).*(?<![\\w.])" + name + "(\\[[^\\]]*\\])? *(\\+\\+|--|[-+*/%&|^]?=[^=]).*");
     }
 
     @Override
