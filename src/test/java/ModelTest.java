@@ -45,6 +45,7 @@ final class ModelTest {
         for (int seed = 0; seed < seeds; seed++) new ModelTest(seed).drawnImages(seed);
         for (int seed = 0; seed < seeds / 4; seed++) new ModelTest(100000 + seed).drawnCalls();
         for (int seed = 0; seed < seeds / 4; seed++) new ModelTest(200000 + seed).drawnDrafts();
+        for (int seed = 0; seed < 6; seed++) new ModelTest(300000 + seed).greatestImages(seed % 3);
         Dues.close("ModelTest");
     }
 
@@ -198,6 +199,61 @@ final class ModelTest {
             }
         }
         return text.toString();
+    }
+
+    /** Images of 960 bytes, poked to be all jumps, switches with most slots, or blocks of a byte or two. */
+    private void greatestImages(int kind) {
+        for (int function = 0; function < 8; function++) {
+            ask("function");
+            for (int place = 0; place < 40; place++) {
+                if (place % 4 == 1) ask("label", place / 4);
+                ask("op", 'c', 0, 0);
+            }
+            for (int index = 0; index < 5 && function < 4; index++) ask("table", function, drafts.below(10));
+            if (function > 3) ask("guard", drafts.below(5), 5 + drafts.below(5), drafts.below(10));
+        }
+        ask("link");
+        for (int at = 0; at < 960; at += 3) pokeThree(kind, at);
+        Dues.due("greatest image", true, number(ask("apart")) >= 320);
+        for (int round = 0; round < 2; round++) {
+            profileGreatest();
+            lookAtAll();
+            ask("fold");
+            ask("thread");
+            ask("drop");
+            ask("checksum");
+        }
+    }
+
+    private void pokeThree(int kind, int at) {
+        int function = at / 120;
+        int way = 120 * function + 3 * drafts.below(40) - at - 3;
+        if (at % 120 == 117) poke(at, 82, 82, 82);
+        else if (kind == 0) poke(at, 64 + 8 * drafts.below(2) + drafts.below(3), way >> 8 & 255, way & 255);
+        else if (kind == 1 && function < 4) poke(at, 96 + drafts.below(3), function, 82);
+        else poke(at, 82, 104, drafts.below(2) == 0 ? 40 : 0);
+    }
+
+    private void poke(int at, int one, int two, int three) {
+        ask("poke", at, one);
+        ask("poke", at + 1, two);
+        ask("poke", at + 2, three);
+    }
+
+    private void profileGreatest() {
+        int blocks = number(ask("blocks"));
+        int most = 1 << 4 + drafts.below(10);
+        for (int block = 0; block < blocks; block++) {
+            for (int slot = -1; slot < 6; slot++) if (drafts.below(3) == 0) ask("count", block, slot, drafts.below(most));
+        }
+        ask("train", 1);
+        int flowing = drafts.below(4);
+        ask("letFlow", flowing);
+        ask("letFlow", 4 + flowing);
+        for (int function = 0; function < 8; function++) ask("order", function);
+        ask("place");
+        ask("make", 1, true);
+        ask("checksum");
     }
 
     private int drawCount() {
