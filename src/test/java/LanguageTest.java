@@ -5,6 +5,7 @@ import com.sun.source.util.TreePathScanner;
 import com.sun.source.util.Trees;
 import java.io.IOException;
 import java.nio.file.Path;
+import java.util.ArrayList;
 import java.util.HashMap;
 import java.util.HashSet;
 import java.util.List;
@@ -41,7 +42,13 @@ final class LanguageTest extends TreePathScanner<Void, Void> {
 
     private final Trees trees;
     private final CompilationUnitTree unit;
+    /** A loop's place, the fields that it is bound by, and the methods that its body calls. */
+    private record Loop(String place, Set<Element> bounds, Set<Element> called) {
+    }
+
     private final Map<Element, Set<Object>> calls = new HashMap<>();
+    private final Map<Element, Set<Element>> changes = new HashMap<>();
+    private final List<Loop> bound = new ArrayList<>();
     private int classes;
     private int loops;
 
@@ -61,6 +68,7 @@ final class LanguageTest extends TreePathScanner<Void, Void> {
         test.scan(new TreePath(unit), null);
         test.unitAsTold();
         test.callsAsTold();
+        test.boundsAsTold();
         Dues.due("classes", true, test.classes <= CLASSES && test.classes > 1);
         Dues.due("loops", true, test.loops > 100);
         Dues.close("LanguageTest");
@@ -253,7 +261,27 @@ final class LanguageTest extends TreePathScanner<Void, Void> {
             Element row = elementOf(((ArrayAccessTree) tree.getVariable()).getExpression());
             need("5", !row.getModifiers().contains(Modifier.STATIC), tree);
         }
+        keepChange(tree.getVariable());
         return super.visitAssignment(tree, none);
+    }
+
+    private void keepChange(ExpressionTree changed) {
+        Tree row = changed instanceof ArrayAccessTree ? ((ArrayAccessTree) changed).getExpression() : changed;
+        Element element = elementOf(row);
+        if (element == null || element.getKind() != ElementKind.FIELD) return;
+        changes.computeIfAbsent(method(), key -> new HashSet<>()).add(element);
+    }
+
+    @Override
+    public Void visitUnary(UnaryTree tree, Void none) {
+        if (tree.getKind().toString().endsWith("CREMENT")) keepChange(tree.getExpression());
+        return super.visitUnary(tree, none);
+    }
+
+    @Override
+    public Void visitCompoundAssignment(CompoundAssignmentTree tree, Void none) {
+        keepChange(tree.getVariable());
+        return super.visitCompoundAssignment(tree, none);
     }
 
     @Override
@@ -280,14 +308,55 @@ final class LanguageTest extends TreePathScanner<Void, Void> {
         for (String name : bound.split("[^A-Za-z]+")) {
             need("9, bound " + name + " is changed", name.isEmpty() || !isChanged(name, body), tree);
         }
+        keepLoop(tree);
         return super.visitForLoop(tree, none);
+    }
+
+    private void keepLoop(ForLoopTree tree) {
+        Set<Element> fields = new HashSet<>();
+        Set<Element> called = new HashSet<>();
+        new Named(fields, ElementKind.FIELD).scan(new TreePath(getCurrentPath(), firstOf(tree.getCondition())), null);
+        new Named(called, ElementKind.METHOD).scan(new TreePath(getCurrentPath(), tree.getStatement()), null);
+        bound.add(new Loop(at(tree), fields, called));
+    }
+
+    /** Finds what is named in a part of the source. */
+    private final class Named extends TreePathScanner<Void, Void> {
+        private final Set<Element> found;
+        private final ElementKind kind;
+
+        Named(Set<Element> found, ElementKind kind) {
+            this.found = found;
+            this.kind = kind;
+        }
+
+        private void keep() {
+            Element element = trees.getElement(getCurrentPath());
+            if (element != null && element.getKind() == kind) found.add(element);
+        }
+
+        @Override
+        public Void visitIdentifier(IdentifierTree tree, Void none) {
+            keep();
+            return super.visitIdentifier(tree, none);
+        }
+
+        @Override
+        public Void visitMemberSelect(MemberSelectTree tree, Void none) {
+            keep();
+            return super.visitMemberSelect(tree, none);
+        }
+    }
+
+    private static ExpressionTree firstOf(ExpressionTree condition) {
+        ExpressionTree first = condition;
+        while (first.getKind() == Tree.Kind.CONDITIONAL_AND) first = ((BinaryTree) first).getLeftOperand();
+        return first;
     }
 
     /** What the counter is held against by the first part of a condition. */
     private static String boundOf(ExpressionTree condition, String counter) {
-        ExpressionTree first = condition;
-        while (first.getKind() == Tree.Kind.CONDITIONAL_AND) first = ((BinaryTree) first).getLeftOperand();
-        String text = first.toString();
+        String text = firstOf(condition).toString();
         return text.startsWith(counter + " ") ? text.substring(counter.length() + 1) : "no " + counter;
     }
 
@@ -322,5 +391,21 @@ final class LanguageTest extends TreePathScanner<Void, Void> {
         int deepest = 0;
         for (Object called : calls.getOrDefault(method, Set.of())) deepest = Math.max(deepest, depth(called, above + 1));
         return 1 + deepest;
+    }
+
+    /** Rule 9: what a loop's body calls changes no field that bounds the loop. */
+    private void boundsAsTold() {
+        for (Loop loop : bound) {
+            Set<Element> changed = new HashSet<>();
+            for (Element method : loop.called) addChanges(method, changed, 0);
+            changed.retainAll(loop.bounds);
+            Dues.due("rule 9, bounds that are changed, " + loop.place, Set.of(), changed);
+        }
+    }
+
+    private void addChanges(Object method, Set<Element> changed, int depth) {
+        changed.addAll(changes.getOrDefault(method, Set.of()));
+        if (depth > DEPTH) return;
+        for (Object called : calls.getOrDefault(method, Set.of())) addChanges(called, changed, depth + 1);
     }
 }
